@@ -818,6 +818,14 @@ public final class PromiseTests {
         x.run(1);
         due("ACBL beyond", x.register(15), CODE + 6);
         due("index", x.register(1), 7);
+        x = made(0x9D, 0x02, 0x8F, 0xFF, 0x51, 0x10, 0x00, 0x00);
+        x.set(1, 0x103);
+        x.run(1);
+        due("ACBB downwards, at the limit", x.register(15), CODE + 7 + 16);
+        due("index", x.register(1), 0x102);
+        x.set(15, CODE);
+        x.run(1);
+        due("ACBB below the limit", x.register(15), CODE + 7);
     }
 
     private static void fields() {
@@ -917,6 +925,13 @@ public final class PromiseTests {
             longs(x, h, r[0] == 0x5E ? 4 : 0, 0);
             x.run(1);
             due("RESERVED OPERAND", x.state(3), 24);
+        }
+        for (int opcode = 0x5E; opcode <= 0x5F; opcode++) {
+            x = made(code(opcode, at(h), 0x52));
+            longs(x, h, 0x20, 0x20);
+            longs(x, a, opcode == 0x5E ? -0x1C : -0x20, opcode == 0x5E ? -0x20 : -0x1C);
+            x.run(1);
+            due("a link of the entry's that has low bits", x.state(3), 24);
         }
     }
 
