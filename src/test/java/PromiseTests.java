@@ -550,6 +550,9 @@ public final class PromiseTests {
         x.write(12, 32 * 512 - 4);
         due("the S entry is there", x.where(0x80000000, 0, false), -1);
         due("the next is not", x.where(0x80000200, 0, false), -100);
+        x.write(12, 0);
+        longs(x, 0, 0xA0000003);
+        due("an S entry at 0", x.where(0x80000001, 3, false), 3 * 512 + 1);
         x.write(56, 0);
         due("no map", x.where(32 * 512 - 1, 3, true), 32 * 512 - 1);
         due("no map, beyond", x.where(32 * 512, 3, true), -100);
@@ -870,6 +873,13 @@ public final class PromiseTests {
             x.run(1);
             due("RESERVED OPERAND", x.state(3), 24);
         }
+        x = made(0xEF, 0x08, 0x20, 0xA1, 0xFF, 0x52, 0xEF, 0x09, 0x20, 0xA1, 0xFF, 0x52);
+        x.set(1, 32 * 512 - 4);
+        longs(x, 32 * 512 - 4, 0x89ABCDEF);
+        x.run(1);
+        due("the last bytes of memory", x.register(2), 0x89ABCDEFL);
+        x.run(1);
+        taken(x, "one bit more", 4, CODE + 6, 8, 32 * 512);
         x = made(0xEE, 0x20, 0x00, 0x51, 0x52, 0x00);
         x.run(1);
         due("of size 0 nothing is looked at", x.state(2), 0);
@@ -1185,6 +1195,21 @@ public final class PromiseTests {
         x.run(1);
         due("a 0 below 0 is plus, the first half 0", x.memory(DATA + 8, 2), 0x0C00);
         due("flags", x.register(16), 4);
+        int[][] counts = {code(0x21, 0, at(DATA), 0, at(DATA), 0x20, at(DATA)), code(0x25, 0, at(DATA), 0x20, at(DATA), 0, at(DATA)),
+            code(0x27, 0, at(DATA), 0, at(DATA), 0x20, at(DATA)), code(0x34, 0x20, at(DATA), at(DATA)),
+            code(0x35, 0x20, at(DATA), at(DATA)), code(0x37, 0, at(DATA), 0x20, at(DATA)), code(0x36, 0x20, at(DATA), 0x51),
+            code(0xF9, 0, 0x20, at(DATA)), code(0xF8, 0, 0, at(DATA), 0, 0x20, at(DATA)), code(0xF8, 0, 0, at(DATA), 10, 0, at(DATA)),
+            code(0x08, 0, at(DATA), 0x20, at(DATA)), code(0x08, 0x20, at(DATA), 0, at(DATA)), code(0x09, 0, at(DATA + 1), 0x20, at(DATA)),
+            code(0x09, 0x20, at(DATA + 1), 0, at(DATA)), code(0x24, 0, at(DATA), at(DATA), 0x20, at(DATA)),
+            code(0x26, 0, at(DATA), at(DATA), 0x20, at(DATA)), code(0x26, 0x20, at(DATA), at(DATA), 0, at(DATA)),
+            code(0x38, 0x20, at(DATA), at(DATA), at(DATA))};
+        for (int[] one : counts) {
+            x = made(one);
+            bytes(x, DATA, 0x0C, '+');
+            x.run(1);
+            due("a count above 31, or a round above 9: " + Integer.toHexString(one[0]), x.state(3), 24);
+            due("nothing is written", x.memory(DATA, 1), 0x0C);
+        }
         x = made(code(0x09, 0x02, at(DATA), 0x03, at(DATA + 8), 0x00));
         text(x, DATA, "*12");
         x.run(1);
@@ -1407,6 +1432,11 @@ public final class PromiseTests {
         due("no translation is kept", x.state(6), 0);
         due("typed bytes stay", x.typed(0), 65);
         due("steps stay", x.state(1), 1);
+        x.halt();
+        yes("one sector, at the end of memory", x.boot(7, 1, 31 * 512));
+        due("SP behind it", x.register(14), 32 * 512);
+        x.halt();
+        yes("again", x.boot(6, 2, 0x1234));
         bytes(x, 0x1234, 1, 1, 1, 1, 1, 1, 1, 1, 1);
         x.write(18, 0);
         x.run(8);
