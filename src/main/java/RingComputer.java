@@ -956,6 +956,7 @@ public final class RingComputer {
         private static final int TO_TRANSLATE = 0;
         private static final int TRANSLATED = 1;
         private static final int IN_REGISTER = 2;
+        private static final int PUSHED = 3;
 
         private final State now;
         private final Memory memory;
@@ -1214,10 +1215,10 @@ public final class RingComputer {
             }
         }
 
-        /** A push that is written at the end: SP falls now. */
+        /** A push, which is an access of its own when the instruction is at its end: SP falls now. */
         void push(int value) {
             now.registers[SP] -= 4;
-            putAt(now.registers[SP], 4, value);
+            plan(PUSHED, now.registers[SP], 4, value);
         }
 
         void overflow(boolean v) {
@@ -1226,18 +1227,21 @@ public final class RingComputer {
             }
         }
 
-        /** All results: translated, then written to memory, then to registers. */
+        /** All results: translated, then written to memory, then to registers; a push is written ahead of the next. */
         boolean finish() {
             for (int i = 0; i < many; i++) {
-                if (kinds[i] == TO_TRANSLATE) {
+                if (kinds[i] == TO_TRANSLATE || kinds[i] == PUSHED) {
                     if (!memory.open(targets[i], widths[i], true, now.mode())) {
                         return false;
                     }
                     keepSpan(resultSpans[i]);
                 }
+                if (kinds[i] == PUSHED) {
+                    memory.putValue(0, widths[i], results[i]);
+                }
             }
             for (int i = 0; i < many; i++) {
-                if (kinds[i] != IN_REGISTER) {
+                if (kinds[i] == TO_TRANSLATE || kinds[i] == TRANSLATED) {
                     int[] span = resultSpans[i];
                     memory.first = span[0];
                     memory.near = span[1];
@@ -1979,7 +1983,7 @@ public final class RingComputer {
                 if (!memory.open(r[SP], 4, true, now.mode())) {
                     return;
                 }
-                operands.putOpened(4, list);
+                memory.putValue(0, 4, list);
                 list = r[SP];
             }
             int procedure = (int) operands.values[1];

@@ -239,9 +239,13 @@ public final class ModelTests {
             return v;
         }
 
+        /** Each push is an access that is done, also if a later one fails. */
         void push(int v) {
             r[14] -= 4;
-            writeTo(r[14], 4, v);
+            int[] places = access(r[14], 4, true, mode());
+            for (int i = 0; i < 4; i++) {
+                memory[places[i]] = (byte) (v >> 8 * i);
+            }
         }
 
         // ---- specials

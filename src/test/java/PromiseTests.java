@@ -1001,6 +1001,64 @@ public final class PromiseTests {
         due("SP", x.register(14), STACK);
     }
 
+    /** Pushes that are each an access: what was pushed ahead of one that fails stays in memory, registers do not. */
+    private static void pushes() {
+        part = "pushes";
+        RingComputer x = made(code(0xFB, 0x07, at(DATA)));
+        bytes(x, DATA, 0x00, 0x10);
+        x.run(1);
+        taken(x, "a mask that is refused", 24, CODE, 0);
+        due("the count stays", x.memory(STACK - 4, 4), 7);
+        due("SP does not", x.special(0), STACK);
+        x = made(code(0xFB, 0x01, at(DATA)));
+        x.set(14, DATA + 4);
+        bytes(x, DATA, 0x00, 0x10);
+        x.run(1);
+        due("the count is the mask", x.register(14), DATA - 24);
+        due("R0's bit is told", x.memory(DATA - 20, 4), 0x20010000);
+        due("the list", x.register(12), DATA);
+        x = made(code(0xFA, at(DATA), at(DATA + 8)));
+        bytes(x, DATA + 8, 0x03, 0x00);
+        x.set(14, 13);
+        x.set(0, 0x11);
+        x.set(1, 0x22);
+        x.set(12, 0x33);
+        x.set(13, 0x44);
+        x.run(1);
+        taken(x, "CALLG's pushes", 4, CODE, 0, -4);
+        due("R1", x.memory(8, 4), 0x22);
+        due("R0", x.memory(4, 4), 0x11);
+        due("PC", x.memory(0, 4), CODE + 11);
+        due("registers", x.register(12) << 8 | x.register(13), 0x3344);
+        due("SP", x.special(0), 13);
+        x = made(0xBB, 0x8F, 0x01, 0x40);
+        x.set(14, 7);
+        x.set(0, 5);
+        x.run(1);
+        taken(x, "PUSHR's second push", 4, CODE, 0, -1);
+        due("SP of before", x.memory(3, 4), 7);
+        x = made(0x06);
+        x.write(16, DATA);
+        longs(x, DATA, 4, 0, 0, 0);
+        longs(x, DATA + 72, 0x4321, 0x03C00000, 88, 99, 1010, 1111);
+        x.set(5, 55);
+        x.run(1);
+        taken(x, "LDPCTX's second push", 4, CODE, 0, -4);
+        due("STATUS was pushed", x.memory(0, 4), 0x03C00000);
+        due("8 stays taken", x.special(8), 88);
+        due("11 stays taken", x.special(11), 1111);
+        due("registers do not", x.register(5), 55);
+        due("nor does SP, which is one", x.special(0), STACK);
+        x = made(0x06);
+        x.set(16, 0x041F0000);
+        x.set(14, INTERRUPT_STACK);
+        x.write(16, 0);
+        longs(x, 0, 76, 0, 0, 0);
+        longs(x, 72, 0x4321, 0x7777);
+        x.run(1);
+        due("PC is taken ahead of STATUS's push", x.memory(68, 8), 0x777700004321L);
+    }
+
     private static void strings() {
         part = "strings";
         RingComputer x = made(code(0x2C, 0x03, at(DATA), 0x2A, 0x05, at(DATA + 16), 0x00));
@@ -1547,6 +1605,7 @@ public final class PromiseTests {
         fields();
         queues();
         calls();
+        pushes();
         strings();
         edit();
         decimalEdges();
