@@ -2384,6 +2384,7 @@ public final class ModelTests {
                         0x80000000 + PROCESS_TABLE - 4 * 0x1FFFE0, 0x1FFFE2);
                 }
             }
+            pushesThatFail(opcode);
             queueLinks(opcode);
             if (opcode == 0x38 && used > 11 && random.nextInt(8) > 0) {
                 int at = DATA + 0x700 + random.nextInt(200);
@@ -2401,6 +2402,19 @@ public final class ModelTests {
                 emitLong(at, 4);
                 emit(0x9F);
                 emitLong(pointer(), 4);
+            }
+        }
+
+        /** A stack whose pushes begin well and often fail later: just above memory's or a page's first byte. */
+        void pushesThatFail(int opcode) {
+            if (random.nextInt(3) > 0) {
+                return;
+            }
+            int low = 512 * (mapped ? random.nextInt(PAGES + 2) : 0) + 1 + random.nextInt(24);
+            if (opcode == 0xBB || opcode == 0xFA || opcode == 0xFB) {
+                set(14, low);
+            } else if (opcode == 0x06) {
+                longs(DATA + 0x600, low);
             }
         }
 
