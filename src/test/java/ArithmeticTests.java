@@ -22,12 +22,16 @@ public final class ArithmeticTests {
         }
     }
 
+    /** A new computer for each round: no object is used for more calls than the document promises answers for. */
     private static RingComputer made() {
         RingComputer x = new RingComputer(32, 0);
         x.write(17, VECTORS);
+        int[] vectors = new int[260];
         for (int offset = 0; offset < 260; offset += 4) {
-            bytes(x, VECTORS + offset, 0x01, 0x08, 0, 0);
+            vectors[offset] = 0x01;
+            vectors[offset + 1] = 0x08;
         }
+        bytes(x, VECTORS, vectors);
         return x;
     }
 
@@ -94,8 +98,8 @@ public final class ArithmeticTests {
     }
 
     private static void integers() {
-        RingComputer x = made();
         for (int round = 0; round < 6000; round++) {
+            RingComputer x = made();
             int pick = RANDOM.nextInt(3);
             int size = 1 << pick;
             int base = 0x80 + 0x20 * pick;
@@ -143,8 +147,8 @@ public final class ArithmeticTests {
     }
 
     private static void compares() {
-        RingComputer x = made();
         for (int round = 0; round < 1500; round++) {
+            RingComputer x = made();
             int pick = RANDOM.nextInt(3);
             int size = 1 << pick;
             int base = 0x80 + 0x20 * pick;
@@ -172,8 +176,8 @@ public final class ArithmeticTests {
     }
 
     private static void wide() {
-        RingComputer x = made();
         for (int round = 0; round < 4000; round++) {
+            RingComputer x = made();
             long a = value();
             long b = signed(value(), 4);
             long c = signed(value(), 4);
@@ -323,8 +327,8 @@ public final class ArithmeticTests {
     }
 
     private static void floats() {
-        RingComputer x = made();
         for (int round = 0; round < 12000; round++) {
+            RingComputer x = made();
             boolean wide = RANDOM.nextBoolean();
             long a = floatBits(wide);
             long b = RANDOM.nextInt(8) == 0 ? a ^ RANDOM.nextInt(2) << 16 : floatBits(wide);
@@ -483,10 +487,10 @@ public final class ArithmeticTests {
     }
 
     private static void decimals() {
-        RingComputer x = made();
         int[] filler = new int[100];
         java.util.Arrays.fill(filler, 0x55);
         for (int round = 0; round < 6000; round++) {
+            RingComputer x = made();
             int ca = RANDOM.nextInt(32);
             int cb = RANDOM.nextInt(32);
             int cc = RANDOM.nextInt(32);

@@ -1,7 +1,17 @@
+import java.util.ArrayList;
+import java.util.List;
 import java.util.Random;
+import java.util.function.ToLongFunction;
 
-/** Random calls and random programs: no call throws, refused calls change nothing, what is kept goes on alike. */
+/**
+ * Random calls and random programs: no call throws, refused calls change nothing, what is kept goes on alike. What is
+ * done is written down first, so that objects can be made alike and each be looked at in part: none is used for more
+ * calls than the document promises answers for.
+ */
 public final class FuzzTests {
+    private static final int PAGES = 10;
+    private static final int LOOKS = 90;
+
     private static int wrong = 0;
 
     private static void due(String what, long got, long want) {
@@ -32,74 +42,144 @@ public final class FuzzTests {
         return mode << 4 | n;
     }
 
-    private static void fillMemory(RingComputer x, Random random, int pages) {
-        for (int page = 0; page < pages; page++) {
-            for (int part = 0; part < 2; part++) {
-                for (int i = 0; i < 13; i++) {
-                    int[] five = new int[5];
-                    for (int k = 0; k < 5; k++) {
-                        int word = 0;
-                        for (int b = 0; b < 4; b++) {
-                            int one = random.nextInt(3) == 0 ? random.nextInt(256) : specifier(random);
-                            one = random.nextInt(5) == 0 ? random.nextInt(64) : one;
-                            word = word << 8 | one;
-                        }
-                        five[k] = random.nextInt(6) == 0 ? 0x0000005C & random.nextInt() : word;
+    private final Random random;
+    private final int sectors;
+    private final List<ToLongFunction<RingComputer>> done = new ArrayList<>();
+    private final List<ToLongFunction<RingComputer>> looks = new ArrayList<>();
+
+    private FuzzTests(int seed) {
+        random = new Random(seed);
+        sectors = random.nextInt(3);
+    }
+
+    private void add(ToLongFunction<RingComputer> one) {
+        done.add(one);
+    }
+
+    private void feed(int[] five) {
+        add(x -> x.feed(five[0], five[1], five[2], five[3], five[4]) ? 1 : 0);
+    }
+
+    private void fillMemory() {
+        for (int part = 0; part < 9; part++) {
+            for (int i = 0; i < 13; i++) {
+                int[] five = new int[5];
+                for (int k = 0; k < 5; k++) {
+                    int word = 0;
+                    for (int b = 0; b < 4; b++) {
+                        int one = random.nextInt(3) == 0 ? random.nextInt(256) : specifier(random);
+                        one = random.nextInt(5) == 0 ? random.nextInt(64) : one;
+                        word = word << 8 | one;
                     }
-                    x.feed(five[0], five[1], five[2], five[3], five[4]);
+                    five[k] = random.nextInt(6) == 0 ? 0x0000005C & random.nextInt() : word;
                 }
-                x.load(page * 512 + part * 256, 256);
+                feed(five);
             }
+            int address = random.nextInt(PAGES * 512 - 256);
+            add(x -> x.load(address, 256) ? 1 : 0);
         }
     }
 
     /** A page table at 0xC00 for S and at S 0x0E00 for P0 and P1, most of its entries usable. */
-    private static void tables(RingComputer x, Random random, int pages) {
+    private void tables() {
         for (int table = 0; table < 2; table++) {
-            for (int i = 0; i < 32; i += 5) {
+            for (int i = 0; i < 15; i += 5) {
                 int[] five = new int[5];
                 for (int k = 0; k < 5; k++) {
                     int code = random.nextInt(3) == 0 ? random.nextInt(16) : 4;
-                    int page = random.nextInt(12) == 0 ? random.nextInt(1 << 21) : (i + k) % pages;
+                    int page = random.nextInt(12) == 0 ? random.nextInt(1 << 21) : (i + k) % PAGES;
                     int valid = random.nextInt(8) == 0 ? 0 : 1 << 31;
                     five[k] = Integer.reverseBytes(valid | code << 27 | page);
                 }
-                x.feed(five[0], five[1], five[2], five[3], five[4]);
+                feed(five);
             }
-            x.load(table == 0 ? 0xC00 : 0xE00, 128);
+            int address = table == 0 ? 0xC00 : 0xE00;
+            add(x -> x.load(address, 60) ? 1 : 0);
         }
-        x.write(12, 0xC00);
-        x.write(13, 30);
-        x.write(8, 0x80000E00);
-        x.write(9, 28);
-        x.write(10, 0x80000E00 - 4 * (0x1FFFFF - 27));
-        x.write(11, 0x1FFFFF - 27);
+        write(12, 0xC00);
+        write(13, 14);
+        write(8, 0x80000E00);
+        write(9, 13);
+        write(10, 0x80000E00 - 4 * (0x1FFFFF - 12));
+        write(11, 0x1FFFFF - 12);
     }
 
-    private static long digest(RingComputer x, int pages, int sectors, boolean deep) {
-        long d = 17;
-        for (int k = 0; k < 17; k++) {
-            d = d * 31 + x.register(k);
+    private void write(int k, int v) {
+        add(x -> x.write(k, v) ? 1 : 0);
+    }
+
+    private void set(int k, int v) {
+        add(x -> x.set(k, v) ? 1 : 0);
+    }
+
+    private void prepare() {
+        fillMemory();
+        tables();
+        write(17, random.nextInt(4) == 0 ? 0 : 0x600);
+        for (int k = 0; k < 5; k++) {
+            write(k, random.nextInt(PAGES * 512));
         }
-        for (int k = 0; k < 64; k++) {
-            d = d * 31 + x.special(k);
+        write(56, random.nextInt(2));
+        for (int k = 0; k < 14; k++) {
+            set(k, someInt(random));
         }
-        for (int k = 0; k < 32; k++) {
-            d = (d * 31 + x.kept(k, 1)) * 31 + x.kept(k, 2);
+        set(16, random.nextInt());
+        set(14, random.nextInt(PAGES * 512));
+    }
+
+    private void programs() {
+        for (int i = 0; i < 35; i++) {
+            if (random.nextInt(3) == 0) {
+                int address = random.nextInt(PAGES * 512);
+                add(x -> x.halt() ? 1 : 0);
+                add(x -> x.go(address) ? 1 : 0);
+            }
+            if (random.nextInt(4) == 0) {
+                set(16, random.nextInt(3) == 0 ? random.nextInt() : random.nextInt() & 0x00C000FF);
+                set(14, random.nextInt(PAGES * 512));
+                set(random.nextInt(14), someInt(random));
+            }
+            int many = 1 + random.nextInt(i % 10 == 0 ? 300 : 6);
+            long seed = random.nextLong();
+            add(x -> x.run(many));
+            add(x -> call(x, new Random(seed)));
+            add(x -> x.register(16) & ~0x4FDF00FFL);
         }
-        for (int k = 0; k < 8; k++) {
-            d = d * 31 + x.state(k);
+    }
+
+    private void allLooks() {
+        for (int i = 0; i < 64; i++) {
+            int k = i;
+            looks.add(x -> x.register(k % 17));
+            looks.add(x -> x.special(k));
+            looks.add(x -> x.kept(k / 2, 1 + k % 2));
+            looks.add(x -> x.state(k % 8));
+            looks.add(x -> x.typed(k));
         }
-        for (int k = 0; k < 64; k++) {
-            d = d * 31 + x.typed(k);
+        for (int i = 0; i < PAGES * 64; i++) {
+            int k = i;
+            looks.add(x -> x.memory(8 * k, 8));
         }
-        for (int a = 0; deep && a < pages * 512; a += 8) {
-            d = d * 31 + x.memory(a, 8);
+        for (int i = 0; i < sectors * 512; i++) {
+            int k = i;
+            looks.add(x -> x.disk(k / 512, k % 512));
         }
-        for (int a = 0; deep && a < sectors * 512; a++) {
-            d = d * 31 + x.disk(a / 512, a % 512);
+    }
+
+    /** A new computer on which all was done. */
+    private RingComputer made() {
+        RingComputer x = new RingComputer(PAGES, sectors);
+        for (ToLongFunction<RingComputer> one : done) {
+            one.applyAsLong(x);
         }
-        return d;
+        return x;
+    }
+
+    private void alike(String what, RingComputer x, RingComputer y) {
+        int from = random.nextInt(looks.size() - LOOKS);
+        for (int i = from; i < from + LOOKS; i++) {
+            due(what + ", look " + i, looks.get(i).applyAsLong(x), looks.get(i).applyAsLong(y));
+        }
     }
 
     private static long call(RingComputer x, Random random) {
@@ -154,65 +234,38 @@ public final class FuzzTests {
         due("refused back", x.back(-1) ? 1 : 0, 0);
     }
 
-    private static void round(int seed) {
-        Random random = new Random(seed);
-        int pages = 16 + random.nextInt(4) * 8;
-        int sectors = random.nextInt(5);
-        RingComputer x = new RingComputer(pages, sectors);
-        fillMemory(x, random, pages);
-        tables(x, random, pages);
-        x.write(17, random.nextInt(4) == 0 ? 0 : 0x600);
-        for (int k = 0; k < 5; k++) {
-            x.write(k, random.nextInt(pages * 512));
+    private static void later(RingComputer x, int seed) {
+        Random random = new Random(seed * 31L);
+        for (int i = 0; i < 6; i++) {
+            x.halt();
+            x.go(random.nextInt(PAGES * 512));
+            x.run(20);
         }
-        x.write(56, random.nextInt(2));
-        for (int k = 0; k < 14; k++) {
-            x.set(k, someInt(random));
-        }
-        x.set(16, random.nextInt());
-        x.set(14, random.nextInt(pages * 512));
-        for (int i = 0; i < 60; i++) {
-            if (random.nextInt(3) == 0) {
-                x.halt();
-                x.go(random.nextInt(pages * 512));
-            }
-            if (random.nextInt(4) == 0) {
-                x.set(16, random.nextInt(3) == 0 ? random.nextInt() : random.nextInt() & 0x00C000FF);
-                x.set(14, random.nextInt(pages * 512));
-                x.set(random.nextInt(14), someInt(random));
-            }
-            x.run(1 + random.nextInt(i % 10 == 0 ? 300 : 6));
-            call(x, random);
-            due("bits of STATUS that are always 0", x.register(16) & ~0x4FDF00FFL, 0);
-        }
-        long before = digest(x, pages, sectors, true);
-        refusals(x);
-        due("seed " + seed + ": refused calls change nothing", digest(x, pages, sectors, true), before);
-        x.keep(0);
-        long[] first = later(x, seed, pages, sectors);
-        x.back(0);
-        int tape = x.state(5);
-        while (x.state(5) > 0) {
-            x.load(0, 1);
-            x.back(0);
-        }
-        long[] again = later(x, seed, pages, sectors);
-        x.back(0);
-        long[] third = later(x, seed, pages, sectors);
-        due("seed " + seed + ": goes on alike from what was kept", third[0], again[0]);
-        due("seed " + seed + ": steps alike", first[1], again[1]);
-        due("tape is not kept", tape >= 0 ? 1 : 0, 1);
     }
 
-    private static long[] later(RingComputer x, int seed, int pages, int sectors) {
-        Random random = new Random(seed * 31L);
-        long ran = 0;
-        for (int i = 0; i < 10; i++) {
-            x.halt();
-            x.go(random.nextInt(pages * 512));
-            ran = ran * 2001 + x.run(20);
+    private static void round(int seed) {
+        FuzzTests f = new FuzzTests(seed);
+        f.prepare();
+        f.programs();
+        f.allLooks();
+        RingComputer first = new RingComputer(PAGES, f.sectors);
+        RingComputer second = new RingComputer(PAGES, f.sectors);
+        for (ToLongFunction<RingComputer> one : f.done) {
+            due("seed " + seed + ": the same calls", one.applyAsLong(first), one.applyAsLong(second));
         }
-        return new long[] {digest(x, pages, sectors, true), ran};
+        due("bits of STATUS that are always 0", first.register(16) & ~0x4FDF00FFL, 0);
+        RingComputer with = f.made();
+        refusals(with);
+        f.alike("seed " + seed + ": refused calls change nothing", with, f.made());
+        RingComputer kept = f.made();
+        kept.keep(1);
+        later(kept, seed + 1);
+        kept.back(1);
+        later(kept, seed);
+        RingComputer plain = f.made();
+        plain.keep(1);
+        later(plain, seed);
+        f.alike("seed " + seed + ": goes on alike from what was kept", kept, plain);
     }
 
     public static void main(String[] args) {

@@ -5,6 +5,7 @@ import java.util.HashMap;
 import java.util.List;
 import java.util.Map;
 import java.util.Random;
+import java.util.function.ToLongFunction;
 
 /**
  * RingComputer against a second computer that is written another way (exceptions, big numbers, lists): random
@@ -1926,6 +1927,8 @@ public final class ModelTests {
     static final int SYSTEM_TABLE = 0x800;
     static final int PROCESS_TABLE = 0xA00;
     static final int DATA = 0x1200;
+    static final int FILLED = 0x510;
+    static final int LOOKS = 200;
 
     static int wrong = 0;
     static long compared = 0;
@@ -1934,12 +1937,28 @@ public final class ModelTests {
     static final class Pair {
         final RingComputer x = new RingComputer(PAGES, SECTORS);
         final Model m = new Model(PAGES, SECTORS);
+        /** All calls that changed x, so that others can be made like it: each object is used for few calls. */
+        final List<ToLongFunction<RingComputer>> done = new ArrayList<>();
         final Random random;
+        byte[] atFirst;
         boolean mapped;
         String last = "";
 
         Pair(long seed) {
             random = new Random(seed);
+        }
+
+        long call(ToLongFunction<RingComputer> one) {
+            done.add(one);
+            return one.applyAsLong(x);
+        }
+
+        RingComputer another() {
+            RingComputer y = new RingComputer(PAGES, SECTORS);
+            for (ToLongFunction<RingComputer> one : done) {
+                one.applyAsLong(y);
+            }
+            return y;
         }
 
         void bytes(int address, byte[] values) {
@@ -1950,10 +1969,11 @@ public final class ModelTests {
                     for (int k = 0; k < 20 && i + k < n; k++) {
                         five[k / 4] |= (values[from + i + k] & 255) << 24 - k % 4 * 8;
                     }
-                    x.feed(five[0], five[1], five[2], five[3], five[4]);
+                    call(y -> y.feed(five[0], five[1], five[2], five[3], five[4]) ? 1 : 0);
                 }
-                x.load(address + from, n);
-                System.arraycopy(values, from, m.memory, address + from, n);
+                int place = address + from;
+                call(y -> y.load(place, n) ? 1 : 0);
+                System.arraycopy(values, from, m.memory, place, n);
             }
         }
 
@@ -1966,7 +1986,7 @@ public final class ModelTests {
         }
 
         void set(int k, int v) {
-            x.set(k, v);
+            call(y -> y.set(k, v) ? 1 : 0);
             if (k == 16) {
                 m.status(v & 0x4FDF00FF);
             } else {
@@ -1975,11 +1995,8 @@ public final class ModelTests {
         }
 
         void special(int k, int v) {
-            boolean a = x.write(k, v);
-            boolean b = m.writeSpecial(k, v);
-            if (a != b) {
-                complain("write " + k, a ? 1 : 0, b ? 1 : 0);
-            }
+            long a = call(y -> y.write(k, v) ? 1 : 0);
+            same("write " + k, a, m.writeSpecial(k, v) ? 1 : 0);
         }
 
         void complain(String what, long got, long due) {
@@ -1996,34 +2013,54 @@ public final class ModelTests {
             }
         }
 
+        /** What each instruction is looked at for. */
         void compare() {
             for (int k = 0; k < 16; k++) {
                 same("R" + k, x.register(k), m.r[k] & 0xFFFFFFFFL);
             }
             same("STATUS", x.register(16), m.status & 0xFFFFFFFFL);
-            for (int k = 0; k < 64; k++) {
-                Integer v = m.readSpecial(k);
-                same("special " + k, x.special(k), v == null ? -1 : v & 0xFFFFFFFFL);
-            }
-            for (int k = 0; k < 32; k++) {
-                int[] e = m.kept.get(k);
-                same("kept " + k, x.kept(k, 1), e == null ? -1 : e[0] & 0xFFFFFFFFL);
-                same("kept entry " + k, x.kept(k, 2), e == null ? -1 : e[1] & 0xFFFFFFFFL);
-            }
             same("halted", x.state(0), m.halted);
             same("steps", x.state(1), m.steps);
             same("taken", x.state(2), m.taken);
             same("latest", x.state(3), m.latest);
-            same("typed", x.state(4), m.typed.size());
-            same("kept", x.state(6), m.kept.size());
             same("ended", x.state(7), m.ended);
-            for (int a = 0; a < m.memory.length; a += 8) {
-                long v = 0;
-                for (int i = 7; i >= 0; i--) {
-                    v = v << 8 | m.memory[a + i] & 255;
-                }
-                same("memory " + Integer.toHexString(a), x.memory(a, 8), v);
+        }
+
+        /** All else, on others that were made alike: the whole memory now and then, or what the model changed. */
+        void compareAll(boolean whole) {
+            RingComputer y = another();
+            same("typed", y.state(4), m.typed.size());
+            same("kept", y.state(6), m.kept.size());
+            for (int k = 0; k < 64; k++) {
+                Integer v = m.readSpecial(k);
+                same("special " + k, y.special(k), v == null ? -1 : v & 0xFFFFFFFFL);
             }
+            for (int k = 0; k < 32; k++) {
+                int[] e = m.kept.get(k);
+                same("kept " + k, y.kept(k, 1), e == null ? -1 : e[0] & 0xFFFFFFFFL);
+                same("kept entry " + k, y.kept(k, 2), e == null ? -1 : e[1] & 0xFFFFFFFFL);
+            }
+            int looks = 0;
+            y = another();
+            for (int a = 0; a < m.memory.length; a += 8) {
+                if (looks == LOOKS) {
+                    looks = 0;
+                    y = another();
+                }
+                long v = wordAt(m.memory, a);
+                if (whole || v != wordAt(atFirst, a) || random.nextInt(64) == 0) {
+                    same("memory " + Integer.toHexString(a), y.memory(a, 8), v);
+                    looks++;
+                }
+            }
+        }
+
+        long wordAt(byte[] row, int a) {
+            long v = 0;
+            for (int i = 7; i >= 0; i--) {
+                v = v << 8 | row[a + i] & 255;
+            }
+            return v;
         }
 
         int pointer() {
@@ -2042,28 +2079,58 @@ public final class ModelTests {
             return region == 2 && random.nextInt(4) == 0 ? random.nextInt() : a;
         }
 
+        /** A row of bytes that is moved on through memory by an instruction, so that it takes few calls to fill it. */
+        void fillMemory() {
+            byte[] row = new byte[197];
+            for (int i = 0; i < row.length; i++) {
+                row[i] = (byte) (random.nextInt(3) == 0 ? random.nextInt(256) : random.nextInt(10) << 4 | random.nextInt(10));
+            }
+            bytes(FILLED, row);
+            int many = PAGES * 512 - FILLED - row.length;
+            used = 0;
+            emit(0x28, 0x8F);
+            emitLong(many, 2);
+            emit(0x9F);
+            emitLong(FILLED, 4);
+            emit(0x9F);
+            emitLong(FILLED + row.length, 4);
+            bytes(0x200, Arrays.copyOf(code, used));
+            call(y -> y.go(0x200) ? 1 : 0);
+            int steps = many / 100 + 1;
+            same("run", call(y -> y.run(steps)), steps);
+            for (int i = 0; i < many; i++) {
+                m.memory[FILLED + row.length + i] = m.memory[FILLED + i];
+            }
+            m.steps = steps;
+            m.ended = 1;
+            m.halted = 0;
+        }
+
         void setUp() {
             mapped = random.nextInt(3) > 0;
-            byte[] all = new byte[PAGES * 512];
-            for (int i = 0; i < all.length; i++) {
-                all[i] = (byte) (random.nextInt(3) == 0 ? random.nextInt(256) : random.nextInt(10) << 4 | random.nextInt(10));
-            }
-            bytes(0, all);
+            fillMemory();
+            int[] vectors = new int[65];
             for (int i = 0; i < 65; i++) {
                 int low = random.nextInt(8) == 0 ? random.nextInt(4) : random.nextInt(2);
-                longs(VECTORS + 4 * i, 0x600 | low);
+                vectors[i] = 0x600 | low;
             }
+            longs(VECTORS, vectors);
             special(17, VECTORS);
+            int[] system = new int[PAGES + 8];
+            int[] process = new int[PAGES + 8];
             for (int i = 0; i < PAGES + 8; i++) {
                 int flag = random.nextInt(12) == 0 ? 0 : 1 << 31;
                 int code = random.nextInt(4) == 0 ? random.nextInt(16) : 4;
                 int page = random.nextInt(30) == 0 ? random.nextInt(1 << 21) : i % PAGES;
-                longs(SYSTEM_TABLE + 4 * i, flag | code << 27 | page | random.nextInt(2) << 26);
+                system[i] = flag | code << 27 | page | random.nextInt(2) << 26;
                 flag = random.nextInt(12) == 0 && i != 0 ? 0 : 1 << 31;
                 code = random.nextInt(5) == 0 ? random.nextInt(16) : 4;
                 page = random.nextInt(30) == 0 ? random.nextInt(1 << 21) : i % PAGES;
-                longs(PROCESS_TABLE + 4 * i, flag | code << 27 | page | random.nextInt(2) << 26);
+                process[i] = flag | code << 27 | page | random.nextInt(2) << 26;
             }
+            longs(SYSTEM_TABLE, system);
+            longs(PROCESS_TABLE, process);
+            set(16, 0);
             special(12, SYSTEM_TABLE);
             special(13, PAGES + 4);
             special(8, 0x80000000 | PROCESS_TABLE);
@@ -2079,6 +2146,7 @@ public final class ModelTests {
             for (int k = 0; k < 14; k++) {
                 set(k, random.nextInt(3) == 0 ? value() : pointer());
             }
+            atFirst = m.memory.clone();
         }
 
         int value() {
@@ -2318,10 +2386,11 @@ public final class ModelTests {
             prepare(opcode);
             bytes(at, Arrays.copyOf(code, used));
             if (m.halted == 0) {
-                x.halt();
+                call(y -> y.halt() ? 1 : 0);
                 m.halted = 3;
             }
-            x.go(at);
+            int place = at;
+            call(y -> y.go(place) ? 1 : 0);
             m.r[15] = at;
             m.halted = 0;
             StringBuilder text = new StringBuilder(Integer.toHexString(opcode) + " at " + Integer.toHexString(at) + ":");
@@ -2331,7 +2400,7 @@ public final class ModelTests {
             last = text + (mapped ? " mapped" : "") + " status " + Integer.toHexString(m.status);
             int before = m.ended;
             int many = random.nextInt(4) == 0 ? 1 + random.nextInt(6) : 1;
-            int ran = x.run(many);
+            long ran = call(y -> y.run(many));
             int due = 0;
             for (int i = 0; i < many; i++) {
                 due += m.halted == 0 ? 1 : 0;
@@ -2472,21 +2541,22 @@ public final class ModelTests {
                 special(k, random.nextBoolean() ? value() : 0xC1);
             }
             if (random.nextInt(6) == 0) {
-                same("key", x.key(k) ? 1 : 0, m.key(k) ? 1 : 0);
+                same("key", call(y -> y.key(k) ? 1 : 0), m.key(k) ? 1 : 0);
             }
         }
     }
 
     public static void main(String[] args) {
         formats();
-        int seeds = args.length > 0 ? Integer.parseInt(args[0]) : 1200;
+        int seeds = args.length > 0 ? Integer.parseInt(args[0]) : 10000;
         for (int seed = 0; seed < seeds && wrong < 1000; seed++) {
             Pair pair = new Pair(seed);
             pair.setUp();
-            for (int i = 0; i < 30; i++) {
+            for (int i = 0; i < 6; i++) {
                 pair.one();
                 pair.probes();
             }
+            pair.compareAll(seed % 8 == 0);
         }
         if (args.length > 1) {
             for (int o = 0; o < 256; o++) {
