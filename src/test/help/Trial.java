@@ -136,6 +136,11 @@ final class Trial {
         return this;
     }
 
+    /** Nothing was taken, and one instruction came to its end. */
+    Trial fine1() {
+        return state(2, 0).state(7, 1);
+    }
+
     /** The first instruction was a fault: what was pushed, with the STATUS of before. */
     Trial fault(int offset, int status, int... parameters) {
         Bench.due(what + ": taken", x.state(2), 1);

@@ -479,6 +479,18 @@ public final class EdgesOfCalls {
         x.run(30);
         Bench.due("nothing is requested, the disk's work is over", x.state(2), 0);
         Bench.due("READY as it was", x.special(50), 128);
+        Bench.due("nothing was written", x.disk(0, 0), 9);
+        x = withSectors(true);
+        x.boot(0, 1, 0);
+        Bench.bytes(x, 0, 0x11, 0xFE);
+        Bench.longs(x, 252, 1);
+        x.write(18, 0);
+        x.write(34, 64);
+        x.run(1);
+        Bench.due("ENABLED while READY", x.state(3), 252);
+        x.write(18, 0);
+        x.run(5);
+        Bench.due("what the terminal was at is over", x.state(2), 1);
     }
 
     private static void promises18and19() {
@@ -520,6 +532,43 @@ public final class EdgesOfCalls {
         }
     }
 
+    /** Changes all that back has to bring again. */
+    private static boolean scrambled(RingComputer x) {
+        x.halt();
+        for (int k = 0; k < 16; k++) {
+            x.set(k, 0x5000 + k);
+        }
+        x.key(99);
+        x.write(56, 0);
+        x.set(16, 0x03C000EF);
+        for (int k : WRITABLE) {
+            if (k != 19 && k != 56 && k != 35) {
+                x.write(k, 0x41);
+            }
+        }
+        x.go(512);
+        x.run(30);
+        x.write(35, 88);
+        x.run(3);
+        x.write(35, 89);
+        x.write(32, 0);
+        return x.back(1);
+    }
+
+    private static void allIsAgain() {
+        for (int i = 0; i < 2; i++) {
+            boolean halted = i == 1;
+            Supplier<RingComputer> make = () -> {
+                RingComputer x = rich(halted);
+                x.write(18, 0);
+                x.keep(1);
+                return x;
+            };
+            Bench.yes("back", scrambled(make.get()));
+            Bench.unchanged("all is again", PAGES, 1, make, EdgesOfCalls::scrambled);
+        }
+    }
+
     private static void promises20and21() {
         Bench.part("promise 20");
         RingComputer x = withSectors(true);
@@ -532,7 +581,9 @@ public final class EdgesOfCalls {
             findsNone("disk(" + one[0] + ", " + one[1] + ")", y -> y.disk(one[0], one[1]), -1);
         }
         Bench.part("promise 21");
-        int[][] unfit = {{-1, 0}, {32, 0}, {-1, 1}, {32, 2}, {LEAST, 0}, {MOST, 0}, {17, -1}, {17, 3}, {17, LEAST}, {17, MOST}, {0, 3}};
+        Bench.due("one is there", rich(false).kept(1, 0), 1);
+        int[][] unfit = {{-1, 0}, {32, 0}, {-1, 1}, {32, 2}, {LEAST, 0}, {MOST, 0}, {1, -1}, {1, 3}, {1, 4}, {1, LEAST}, {1, MOST}, {0, 3}, {0, 1},
+            {0, 2}};
         for (int[] one : unfit) {
             findsNone("kept(" + one[0] + ", " + one[1] + ")", y -> y.kept(one[0], one[1]), -1);
         }
@@ -592,6 +643,7 @@ public final class EdgesOfCalls {
         promises14to16();
         promise17();
         promises18and19();
+        allIsAgain();
         promises20and21();
         promise22();
         ownMemory();

@@ -105,6 +105,7 @@ public final class EdgesOfDecimals {
             Trial.of("MOVP " + n + ", its place is not there", 0x34, n, Bench.at(DATA), Bench.at(END - n / 2)).bytes(DATA, packed(v, n))
                 .reg(1, 77).run(1).fault(CHECK, 0, END).is(1, 77);
         }
+        everyLongCount();
         int[][] counts = {code(0x20, 9, 0), code(0x20, 0, 9), code(0x37, 9, 0), code(0x37, 0, 9), code(0x08, 9, 0), code(0x08, 0, 9),
             code(0x09, 9, 0), code(0x09, 0, 9)};
         for (int[] head : counts) {
@@ -120,6 +121,88 @@ public final class EdgesOfDecimals {
                 }
             }
         }
+    }
+
+    /** Each instruction with each of its counts, which is the last one allowed, or one more. */
+    private static void everyLongCount() {
+        Object[][] forms = {{0x21, 0, "a", 1, "a", 2, "c"}, {0x23, 0, "a", 1, "a", 2, "c"}, {0x25, 0, "a", 1, "a", 2, "c"}, {0x27, 0, "b", 1, "a", 2, "c"},
+            {0x22, 0, "a", 1, "a"}, {0x34, 0, "a", "c"}, {0x35, 0, "a", "a"}, {0x36, 0, "a", "r"}, {0xF9, "l", 0, "c"},
+            {0xF8, "l", 0, "a", "l", 1, "c"}, {0x24, 0, "a", "t", 1, "c"}, {0x26, 0, "s", "t", 1, "c"}};
+        for (Object[] form : forms) {
+            for (int which = 0; which < 3; which++) {
+                for (int n = 31; n <= 32; n++) {
+                    int used = 0;
+                    int[] code = {(Integer) form[0]};
+                    for (int i = 1; i < form.length; i++) {
+                        int[] part;
+                        if (form[i] instanceof Integer k) {
+                            part = Bench.w(k == which ? n : 31);
+                            used = k == which ? 1 : used;
+                        } else {
+                            part = operand((String) form[i]);
+                        }
+                        code = Bench.code(code, part);
+                    }
+                    if (used == 1) {
+                        Trial t = Trial.of(Integer.toHexString(code[0]) + " count " + which + " of " + n, code).bytes(DATA, packed(big(0), 31))
+                            .bytes(SECOND, packed(big(1), 31)).bytes(TABLE, Bench.repeated(0x0C, 256)).bytes(THIRD, Bench.repeated(48, 32)).run(1);
+                        if (n == 31) {
+                            t.fine();
+                        } else {
+                            t.fault(RESERVED, 0);
+                        }
+                    }
+                }
+            }
+        }
+    }
+
+    private static int[] operand(String kind) {
+        switch (kind) {
+            case "a": return Bench.at(DATA);
+            case "b": return Bench.at(SECOND);
+            case "c": case "s": return Bench.at(THIRD);
+            case "t": return Bench.at(TABLE);
+            case "r": return new int[] {0x57};
+            default: return new int[] {0x01};
+        }
+    }
+
+    /** Several on one computer: nothing of an earlier one stays in a later one. */
+    private static void oneBehindTheOther() {
+        Bench.part("one behind the other");
+        int[] long31 = Bench.code(0x25, 0x1F, Bench.at(DATA), 0x1F, Bench.at(DATA), 0x1F, Bench.at(THIRD));
+        int[] shifted = Bench.code(0xF8, Bench.b(127), 0x1F, Bench.at(DATA), 0x00, 0x1F, Bench.at(THIRD));
+        int[][] later = {Bench.code(0x34, 0x01, Bench.at(SECOND), Bench.at(TABLE)), Bench.code(0xF9, 0x01, 0x1F, Bench.at(TABLE)),
+            Bench.code(0x20, 0x01, Bench.at(SECOND), 0x1F, Bench.at(TABLE)), Bench.code(0x25, 0x01, Bench.at(SECOND), 0x01, Bench.at(SECOND), 0x1F, Bench.at(TABLE)),
+            Bench.code(0x27, 0x01, Bench.at(SECOND), 0x01, Bench.at(SECOND), 0x1F, Bench.at(TABLE)), Bench.code(0xF8, 0x00, 0x01, Bench.at(SECOND), 0x00, 0x1F, Bench.at(TABLE)),
+            Bench.code(0x09, 0x01, Bench.at(SECOND + 2), 0x1F, Bench.at(TABLE)), Bench.code(0x26, 0x01, Bench.at(SECOND + 4), Bench.at(DATA), 0x1F, Bench.at(TABLE)),
+            Bench.code(0x23, 0x01, Bench.at(SECOND + 1), 0x01, Bench.at(SECOND), 0x1F, Bench.at(TABLE))};
+        for (int[] one : later) {
+            for (int[] first : new int[][] {long31, shifted}) {
+                int[] all = Bench.code(first, one);
+                int digits = one[0] == 0x34 ? 1 : 31;
+                Trial t = Trial.of("behind " + Integer.toHexString(first[0]) + ": " + Integer.toHexString(one[0]), all).bytes(DATA, packed(NINES, 31))
+                    .bytes(SECOND, 0x1C, 0x0C, '+', '1', 0x14);
+                guard(t, TABLE, digits / 2 + 1).bytes(TABLE, packed(big(0), digits)).bytes(DATA + 20, 0x1C).run(1).state(7, 1);
+                t.run(1);
+                held(t, TABLE, packed(big(1), digits)).state(7, 2).state(2, 0).flags(0);
+            }
+        }
+        Trial.of("CMPP4 behind a long one", Bench.code(long31, 0x37, 0x01, Bench.at(SECOND), 0x01, Bench.at(SECOND + 1))).bytes(DATA, packed(NINES, 31))
+            .bytes(SECOND, 0x1C, 0x2C).run(2).flags(8).is(0, 0).is(1, SECOND).is(2, 0).is(3, SECOND + 1).is(4, 0).is(5, 0).state(7, 2);
+        Trial.of("CVTPL behind a long one", Bench.code(long31, 0x36, 0x01, Bench.at(SECOND), 0x57)).bytes(DATA, packed(NINES, 31))
+            .bytes(SECOND, 0x1C).run(2).flags(0).is(7, 1).is(1, SECOND).is(3, 0).is(5, 0);
+        Trial.of("CVTSP behind a long one: registers", Bench.code(long31, 0x09, 0x01, Bench.at(SECOND), 0x01, Bench.at(TABLE))).bytes(DATA, packed(NINES, 31))
+            .bytes(SECOND, '-', '1').run(2).flags(8).is(0, 0).is(1, SECOND).is(2, 0).is(3, TABLE).is(4, 0).is(5, 0);
+        Trial.of("CMPP3 behind a long one", Bench.code(long31, 0x35, 0x01, Bench.at(SECOND), Bench.at(SECOND + 1))).bytes(DATA, packed(NINES, 31))
+            .bytes(SECOND, 0x1C, 0x1F).run(2).flags(4).is(1, SECOND).is(3, SECOND + 1).is(5, 0);
+        Trial.of("CVTPS behind a long one", Bench.code(long31, 0x08, 0x01, Bench.at(SECOND), 0x03, Bench.at(TABLE))).bytes(DATA, packed(NINES, 31))
+            .bytes(SECOND, 0x1C).run(2).flags(0).holds(TABLE, 4, '+' | '0' << 8 | '0' << 16 | (long) '1' << 24).is(5, 0);
+        Trial.of("EDITPC behind a long one", Bench.code(long31, 0x38, 0x01, Bench.at(SECOND), Bench.at(SECOND + 1), Bench.at(TABLE)))
+            .bytes(DATA, packed(NINES, 31)).bytes(SECOND, 0x0C, 0x91, 0).run(2).flags(4).holds(TABLE, 2, ' ');
+        Trial.of("by 0 behind a result", Bench.code(long31, 0x27, 0x01, Bench.at(SECOND), 0x01, Bench.at(SECOND), 0x01, Bench.at(TABLE)))
+            .bytes(DATA, packed(NINES, 31)).bytes(SECOND, 0x0C).run(2).state(7, 2).state(3, 52).holds(TABLE, 1, 0);
     }
 
     private static int[] code(int... row) {
@@ -407,6 +490,7 @@ public final class EdgesOfDecimals {
     public static void main(String[] args) {
         sums();
         everyCount();
+        oneBehindTheOther();
         digitsAndSigns();
         lookedAtInOrder();
         binary();

@@ -92,6 +92,12 @@ public final class EdgesOfExceptions {
             t.status(0x004200EF | 1 << 6).reg(14, 7).run(1).fault(8, 0x004200EF).is(15, HANDLER + 0x40).is(16, 0x041F0000)
                 .is(14, INTERRUPTS - 8).reads(0, 7);
         }
+        for (int mode = 0; mode < 4; mode++) {
+            int old = mode << 24 | 0x00C00000;
+            Trial t = Trial.of("offset 8 from mode " + mode, 0x03).vector(44, HANDLER);
+            t.x.set(16, old);
+            t.special(0, 7).run(1).fault(8, old).is(16, 0x041F0000 | mode << 22);
+        }
         Trial.of("the first bytes of memory are enough", 0x03).vector(44, HANDLER).reg(14, 8).run(1).fault(44, 0).is(14, 0);
         Trial.of("one fewer is not", 0x03).vector(44, HANDLER).reg(14, 7).run(1).fault(8, 0);
         Trial.of("with a parameter", 0xC6, 0x00, 0x51).vector(52, HANDLER).reg(14, 12).run(1).trap(2, CODE + 3, 6).is(14, 0);

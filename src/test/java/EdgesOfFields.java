@@ -65,6 +65,13 @@ public final class EdgesOfFields {
         Trial.of("size 0 compared", 0xEC, 0x00, 0x00, 0x51, 0x01).reg(1, -1).run(1).flags(9);
         Trial.of("size 0 compared", 0xED, 0x00, 0x00, 0x51, 0x00).reg(1, -1).status(15).run(1).flags(4);
         Trial.of("32 bits compared, with the L", 0xED, 0x00, 0x20, 0x51, Bench.l(1)).reg(1, -1).run(1).flags(8);
+        for (int opcode = 0xEC; opcode <= 0xED; opcode++) {
+            for (int v : new int[] {-9, -8, -7, 6, 7, 8, 9, LEAST, MOST}) {
+                int field = opcode == 0xEC ? -8 : 8;
+                int want = (field < v ? 8 : 0) | (field == v ? 4 : 0) | (Integer.compareUnsigned(field, v) < 0 ? 1 : 0);
+                Trial.of("compared with " + v, opcode, 0x04, 0x04, 0x51, Bench.l(v)).reg(1, 0x85).status(2).run(1).fine().flags(want);
+            }
+        }
         Trial.of("FFS, size 0", 0xEA, 0x05, 0x00, 0x51, 0x52).reg(1, -1).status(11).run(1).is(2, 5).flags(4);
         Trial.of("FFC, none", 0xEB, 0x05, 0x1B, 0x51, 0x52).reg(1, -1).run(1).is(2, 32).flags(4);
         Trial.of("FFS, the last one", 0xEA, 0x05, 0x1B, 0x51, 0x52).reg(1, LEAST).status(15).run(1).is(2, 31).flags(0);
@@ -162,6 +169,28 @@ public final class EdgesOfFields {
             0xA0000012L).holds(17 * 512 - 4, 8, 0);
     }
 
+    /** Entries in S, so that all bytes of their addresses count. */
+    private static void queuesOfSystem() {
+        int h = Trial.S | DATA;
+        int a = h + 0x20;
+        int b = h + 0x40;
+        Trial t = Trial.mapped("in S", 0x0E, Bench.at(a), Bench.at(h), 0x0E, Bench.at(b), Bench.at(a), 0x0F, Bench.at(a), 0x52, 0x0F, Bench.at(b), 0x53);
+        t.bytes(DATA - 1, Bench.repeated(0xEE, 0x50)).longs(DATA, h, h).run(1).fine().flags(4);
+        t.holds(DATA, 8, links(a, a)).holds(DATA + 0x20, 8, links(h, h)).holds(DATA + 8, 1, 0xEE).holds(DATA + 0x28, 1, 0xEE);
+        t.run(1).fine().flags(9).holds(DATA, 8, links(a, b)).holds(DATA + 0x20, 8, links(b, h)).holds(DATA + 0x40, 8, links(h, a));
+        t.run(1).fine().flags(0).is(2, a).holds(DATA, 8, links(b, b)).holds(DATA + 0x40, 8, links(h, h)).holds(DATA + 0x48, 1, 0xEE);
+        t.run(1).fine().flags(4).is(3, b).holds(DATA, 8, links(h, h)).holds(DATA + 8, 1, 0xEE).holds(DATA - 1, 1, 0xEE);
+        for (int opcode = 0x5C; opcode <= 0x5D; opcode++) {
+            t = Trial.mapped("from P0 to S", opcode, Bench.at(8), Bench.at(h), opcode + 2, Bench.at(h), 0x52).longs(DATA, 0, 0).run(1).fine().flags(4);
+            t.holds(DATA, 8, links(8 - h, 8 - h)).holds(16 * 512 + 8, 8, links(h - 8, h - 8)).holds(DATA + 8, 4, 0).holds(16 * 512 + 16, 4, 0);
+            t.run(1).fine().flags(4).is(2, 8).holds(DATA, 8, 0);
+        }
+    }
+
+    private static long links(int forward, int back) {
+        return (long) back << 32 | forward & 0xFFFFFFFFL;
+    }
+
     private static void relativeQueues() {
         Bench.part("relative queues");
         int h = DATA;
@@ -228,6 +257,10 @@ public final class EdgesOfFields {
         for (int n = 0; n < 14; n++) {
             all.is(n, 0x1000 + n);
         }
+        Trial.of("the count is an L", 0xFB, Bench.l(0x89ABCDEF), Bench.at(DATA)).bytes(STACK - 5, Bench.repeated(0xEE, 10)).run(1).fine()
+            .holds(STACK - 4, 8, 0xEEEEEEEE89ABCDEFL).is(12, STACK - 4);
+        Trial page = Trial.mapped("the count's own page", 0xFB, 0x01, Bench.at(Trial.S + DATA)).reg(14, 516).run(1).fine();
+        page.holds(Trial.PROCESS_TABLE, 8, 0xA4000011A4000010L).holds(17 * 512, 4, 1);
         int[][] masks = {{0x0000, 0x00}, {0x4000, 0x20}, {0x8000, 0x80}, {0xC000, 0xA0}};
         for (int[] mask : masks) {
             Trial.of("IV and DV", 0xFA, Bench.at(0), Bench.at(DATA)).bytes(DATA, Bench.spread(mask[0], 2)).status(0xEF).run(1).fine()
@@ -250,6 +283,10 @@ public final class EdgesOfFields {
         Trial.of("the next pop is not there", 0x04).reg(13, END - 8).run(1).fault(CHECK, 0, END).is(13, END - 8);
         Trial.of("the last pops of memory", 0x04).reg(13, END - 20).longs(END - 16, 0xFF, 1, 2, 3).run(1).fine().is(12, 1).is(13, 2).is(15, 3)
             .is(14, END).is(16, 0xFF);
+        Trial.of("all bytes of what is popped", 0x04).reg(13, DATA).longs(DATA + 4, 0x00010000, 0x89ABCDEF, 0x9ABCDEF8, 0xABCDEF89, 0xBCDEF89A).run(1).fine()
+            .is(12, 0x89ABCDEF).is(13, 0x9ABCDEF8).is(15, 0xABCDEF89).is(0, 0xBCDEF89A).is(14, DATA + 24);
+        Trial.of("low eight bits of STATUS", 0x04).reg(13, DATA).longs(DATA + 4, 0, 1, 2, 3).status(0x004500EF).run(1).fine().is(16, 0x00450000);
+        Trial.of("all bytes of PC by RSB", 0x05).longs(STACK, 0x89ABCDEF).run(1).fine().is(15, 0x89ABCDEF);
         Trial.of("bits 30, 31", 0x04).reg(13, DATA).longs(DATA + 4, 0xC0000000, 1, 2, 3).run(1).fine().is(14, DATA + 23);
         Trial.of("CALLS, a count of 0", 0x04).reg(13, DATA).longs(DATA + 4, 0x20000000, 1, 2, 3, 0xFFFFFF00).run(1).fine().is(14, DATA + 24);
         Trial.of("CALLS, a count of 255", 0x04).reg(13, DATA).longs(DATA + 4, 0x20000000, 1, 2, 3, 0xFF).run(1).fine().is(14, DATA + 24 + 1020);
@@ -279,6 +316,8 @@ public final class EdgesOfFields {
         Trial.of("one fewer", 0xBB, 0x03).reg(14, 7).run(1).fault(CHECK, 0, -1).reads(0, 7);
         Trial.of("POPR at the end", 0xBA, 0x03).reg(14, END - 8).longs(END - 8, 1, 2).run(1).fine().is(14, END).is(0, 1).is(1, 2);
         Trial.of("POPR behind the end", 0xBA, 0x03).reg(14, END - 4).longs(END - 4, 1).run(1).fault(CHECK, 0, END).is(0, 0).reads(0, END - 4);
+        Trial.of("all bytes of what is popped", 0xBA, 0x03).longs(STACK, 0x89ABCDEF, 0xFEDCBA98).run(1).fine().is(0, 0x89ABCDEF).is(1, 0xFEDCBA98);
+        Trial.of("all bytes of what is pushed", 0xBB, 0x03).reg(0, 0x89ABCDEF).reg(1, 0xFEDCBA98).run(1).fine().holds(STACK - 8, 8, 0xFEDCBA9889ABCDEFL);
         Trial.of("POPR of SP", 0xBA, Bench.w(0x4001)).longs(STACK, 5, 777).run(1).fine().is(0, 5).is(14, 777);
     }
 
@@ -287,6 +326,7 @@ public final class EdgesOfFields {
         values();
         bits();
         absoluteQueues();
+        queuesOfSystem();
         relativeQueues();
         calls();
         returns();

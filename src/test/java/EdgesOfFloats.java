@@ -181,6 +181,10 @@ public final class EdgesOfFloats {
                 Trial.of("MOV takes it", o + 0x10, none, 0x51).reg(1, 9).status(3).run(1).fine().is(1, (int) bad).flags(13);
             }
             Trial.of("MOV of a 0", o + 0x10, immediate(wide, 0), 0x51).reg(1, 9).status(11).run(1).fine().is(1, 0).flags(5);
+            for (long bits : new long[] {0x40FF, 0xFFFF4081L, 0x00014080, 0x0001}) {
+                Trial.of("MOV takes all bits", o + 0x10, immediate(wide, bits), 0x51).run(1).fine().is(1, (int) bits).flags(bits == 1 ? 4 : 0);
+                Trial.of("TST", o + 0x13, immediate(wide, bits)).run(1).fine().flags(bits == 1 ? 4 : 0);
+            }
             Trial.of("MOV of the least", o + 0x10, immediate(wide, 0x80), 0x51).status(14).run(1).fine().flags(0);
             Trial.of("MOV below 0", o + 0x10, immediate(wide, 0xC080), 0x51).status(2).run(1).fine().flags(8);
             Trial.of("e 0 is 0, whatever the fraction", o + 1, immediate(wide, 0xFFFF007FL), immediate(wide, 0x4080), 0x51).run(1).fine().is(1, 0x4080);

@@ -343,6 +343,23 @@ public final class EdgesOfIntegers {
         Trial.of("INDEX wraps without V", 0x0A, Bench.l(MOST), 0x00, Bench.l(MOST), 0x02, 0x01, 0x51).status(0x20).run(1).fine().is(1, 0).flags(4);
     }
 
+    private static void conditions() {
+        Bench.part("conditions");
+        for (int flags = 0; flags < 16; flags++) {
+            boolean n = (flags & 8) != 0;
+            boolean z = (flags & 4) != 0;
+            boolean v = (flags & 2) != 0;
+            boolean c = (flags & 1) != 0;
+            boolean[] go = {true, !z, z, !n && !z, n || z, false, false, !n, n, !c && !z, c || z, !v, v, !c, c};
+            for (int opcode = 0x11; opcode < 0x20; opcode++) {
+                if (opcode != 0x16 && opcode != 0x17) {
+                    Trial.of("branch " + Integer.toHexString(opcode) + " with " + flags, opcode, 0x40).status(flags).run(1).fine().flags(flags)
+                        .is(15, CODE + 2 + (go[opcode - 0x11] ? 0x40 : 0));
+                }
+            }
+        }
+    }
+
     private static void branches() {
         Bench.part("branches");
         Trial.of("the least B", 0x11, 0x80).run(1).is(15, CODE + 2 - 128);
@@ -373,6 +390,7 @@ public final class EdgesOfIntegers {
         carries();
         loops();
         pushesAndStatus();
+        conditions();
         branches();
         Bench.end("edges of integers");
     }

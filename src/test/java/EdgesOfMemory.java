@@ -133,6 +133,25 @@ public final class EdgesOfMemory {
         half.special(8, (S | 6 * 512) + 510).run(1).fault(MACHINE_CHECK, 0, END);
     }
 
+    /** The S entry of the page that P0's table lies in, at both ends of memory. */
+    private static void tablesOfTables() {
+        Bench.part("the table's own entry");
+        int six = 4 * 6;
+        Trial t = Trial.mapped("ends", 0x01).longs(END - 4, 0xA0000006).longs(0, 0xA0000006);
+        t.special(12, END - 4 - six);
+        where("the last L of memory", t, 7, false, 16 * 512 + 7);
+        t.special(12, END - 3 - six);
+        where("one byte is not there", t, 7, false, -100);
+        t.special(12, END - six);
+        where("none is", t, 7, true, -100);
+        t.special(12, -six);
+        where("the first L of memory", t, 7, false, 16 * 512 + 7);
+        t.special(12, -six - 1);
+        where("ahead of it", t, 7, false, -100);
+        t.special(12, Trial.SYSTEM_TABLE).special(8, (S | Trial.PROCESS_TABLE) + 1).longs(Trial.PROCESS_TABLE + 1, 0xA0000013);
+        where("a table at an odd address", t, 7, false, 19 * 512 + 7);
+    }
+
     /** An entry that lies over its page's end goes on behind it physically, whatever S's next page is. */
     private static void entryOverPages() {
         Bench.part("an entry's four bytes");
@@ -211,10 +230,20 @@ public final class EdgesOfMemory {
             Bench.due("P1's", t.x.kept(1, 0), one[1] == 4 ? 1 : 0);
             Bench.due("S's", t.x.kept(17, 0), one[1] > 0 ? 1 : 0);
         }
+        int[][] lasts = {{8, 4}, {12, 0}, {13, 0}, {56, 0}, {57, 0}};
+        for (int[] one : lasts) {
+            Trial t = Trial.mapped("the last and the first of each half, written " + one[0], 0x90, Bench.at(15 * 512), Bench.at(S + 15 * 512), 0x95,
+                Bench.at(S)).run(2).state(6, 5);
+            Bench.due("16 and 31", t.x.kept(16, 0) + t.x.kept(31, 0) + t.x.kept(15, 0), 3);
+            t.special(one[0], 1).state(6, one[1]).kept(15, -1, -1);
+            Bench.due("16 and 31", t.x.kept(16, 0) + t.x.kept(31, 0), one[1] == 0 ? 0 : 2);
+        }
         Trial same = Trial.mapped("whatever it is then", 0x95, Bench.at(5)).run(1).special(9, 16).state(6, 2).special(13, 32).state(6, 0);
         same.again().run(1).special(56, 1).state(6, 0);
         Trial t = Trial.mapped("TBIS", 0x95, Bench.at(5)).run(1).state(6, 3);
         t.special(58, 512).special(58, 16 * 512).special(58, FIRST_P1).special(58, S).special(58, 0xC0000000).state(6, 3);
+        Trial next = Trial.mapped("TBIS leaves the next page's", 0xD5, Bench.at(510), 0x01).run(1).state(6, 4).special(58, 0).state(6, 3);
+        next.kept(0, -1, -1).kept(1, 512, 0xA0000011L);
         t.special(58, 511).state(6, 2).kept(0, -1, -1);
         t.special(58, S + 511).state(6, 2).special(58, S + 1023).state(6, 1).kept(17, -1, -1).special(58, S + 0xC00).state(6, 0);
     }
@@ -230,9 +259,73 @@ public final class EdgesOfMemory {
         t = Trial.mapped("of S, by a push", 0xDD, 0x01).run(1).fine();
         t.holds(Trial.SYSTEM_TABLE + 4 * 15, 4, 0xA400000FL).holds(Trial.SYSTEM_TABLE + 4 * 16, 4, 0xA0000010L);
         t.kept(31, 0x80001E00L, 0xA400000FL);
-        t = Trial.mapped("where leaves it", 0x01);
+        t = Trial.mapped("where leaves it", 0x94, Bench.at(5));
         where("to write", t, 5, true, 16 * 512 + 5);
-        t.holds(Trial.PROCESS_TABLE, 4, 0xA0000010L).state(6, 0);
+        t.holds(Trial.PROCESS_TABLE, 4, 0xA0000010L).state(6, 0).run(1).state(6, 3).holds(Trial.PROCESS_TABLE, 4, 0xA4000010L);
+        t = Trial.mapped("the kept one's place", 0x95, Bench.at(5), 0x95, Bench.at(512), 0x94, Bench.at(5)).run(3).fine();
+        t.holds(Trial.PROCESS_TABLE, 8, 0xA0000011A4000010L).kept(0, 0, 0xA4000010L).kept(1, 512, 0xA0000011L);
+        readsOnly();
+    }
+
+    /** What only reads leaves MODIFIED, and needs no right to write. */
+    private static void readsOnly() {
+        readOnly("RSB", Trial.mapped("RSB", 0x05).reg(14, 4));
+        readOnly("RET", Trial.mapped("RET", 0x04).reg(13, 4).longs(16 * 512 + 8, 0x28010000));
+        readOnly("POPR", Trial.mapped("POPR", 0xBA, 0x03).reg(14, 4));
+        readOnly("REI", Trial.mapped("REI", 0x02).reg(14, 4));
+        readOnly("SVPCTX", Trial.mapped("SVPCTX", 0x07).reg(14, 4).special(16, Trial.DATA));
+        readOnly("CALLG's mask", Trial.mapped("CALLG", 0xFA, Bench.at(0), Bench.at(4)));
+        readOnly("CASE's table", Trial.mapped("CASE", 0x01).bytes(16 * 512, 0x8F, 0x00, 0x00, 0x00, 0x00, 0x00).reg(15, 0));
+        readOnly("LOCC", Trial.mapped("LOCC", 0x3A, 0x01, 0x04, Bench.at(4)));
+        readOnly("SCANC", Trial.mapped("SCANC", 0x2A, 0x04, Bench.at(4), Bench.at(4), 0x01));
+        readOnly("CMPC3", Trial.mapped("CMPC3", 0x29, 0x04, Bench.at(4), Bench.at(8)));
+        readOnly("CRC", Trial.mapped("CRC", 0x0B, Bench.at(4), 0x00, 0x04, Bench.at(4)));
+        readOnly("MATCHC", Trial.mapped("MATCHC", 0x39, 0x01, Bench.at(4), 0x02, Bench.at(4)));
+        readOnly("MOVC3's first", Trial.mapped("MOVC3", 0x28, 0x04, Bench.at(4), Bench.at(S + Trial.DATA)));
+        readOnly("MOVTC's table", Trial.mapped("MOVTC", 0x2E, 0x01, Bench.at(4), 0x00, Bench.at(4), 0x01, Bench.at(S + Trial.DATA)));
+        readOnly("EXTV", Trial.mapped("EXTV", 0xEE, 0x03, 0x07, Bench.at(4), 0x51));
+        readOnly("CMPV", Trial.mapped("CMPV", 0xEC, 0x03, 0x07, Bench.at(4), 0x51));
+        readOnly("FFS", Trial.mapped("FFS", 0xEA, 0x03, 0x07, Bench.at(4), 0x51));
+        readOnly("BBS", Trial.mapped("BBS", 0xE0, 0x03, Bench.at(4), 0x00));
+        readOnly("an empty queue, from its head", Trial.mapped("REMQHI", 0x5E, Bench.at(8), 0x51));
+        readOnly("an empty queue, from its tail", Trial.mapped("REMQTI", 0x5F, Bench.at(8), 0x51));
+        readOnly("a decimal", Trial.mapped("CVTPL", 0x36, 0x00, Bench.at(4), 0x51).bytes(16 * 512 + 4, 0x0C));
+        readOnly("digits", Trial.mapped("CVTSP", 0x09, 0x00, Bench.at(4), 0x00, Bench.at(S + Trial.DATA)).bytes(16 * 512 + 4, '+'));
+        readOnly("a table back", Trial.mapped("CVTTP", 0x26, 0x01, Bench.at(4), Bench.at(4), 0x01, Bench.at(S + Trial.DATA)).bytes(16 * 512 + 4, 0x0C)
+            .bytes(16 * 512 + 16, 0x0C));
+        readOnly("a table", Trial.mapped("CVTPT", 0x24, 0x00, Bench.at(4), Bench.at(4), 0x01, Bench.at(S + Trial.DATA)).bytes(16 * 512 + 4, 0x0C));
+        readOnly("a pattern", Trial.mapped("EDITPC", 0x38, 0x00, Bench.at(4), Bench.at(6), Bench.at(S + Trial.DATA)).bytes(16 * 512 + 4, 0x0C));
+        readOnly("an address", Trial.mapped("@(R1)+", 0xD5, 0x91).reg(1, 4));
+        readOnly("an address at a displacement", Trial.mapped("@4(R1)", 0xD5, 0xB1, 4).reg(1, 0));
+    }
+
+    private static void readOnly(String what, Trial t) {
+        t.longs(Trial.PROCESS_TABLE, 1 << 31 | 15 << 27 | 16).run(1).fine().holds(Trial.PROCESS_TABLE, 4, 0xF8000010L).kept(0, 0, 0xF8000010L);
+    }
+
+    /** Each write asks for writing: a page that may only be read is refused. */
+    private static void writes() {
+        Bench.part("what writes");
+        notWritten(Trial.mapped("PUSHL", 0xDD, 0x01).reg(14, 12), 8);
+        notWritten(Trial.mapped("BSB", 0x10, 0x00).reg(14, 12), 8);
+        notWritten(Trial.mapped("PUSHR", 0xBB, 0x01).reg(14, 12), 8);
+        notWritten(Trial.mapped("CALLG", 0xFA, Bench.at(0), Bench.at(S + Trial.DATA)).reg(14, 12), 8);
+        notWritten(Trial.mapped("the count of CALLS", 0xFB, 0x00, Bench.at(S + Trial.DATA)).reg(14, 12), 8);
+        notWritten(Trial.mapped("INSQUE", 0x0E, Bench.at(8), Bench.at(S + Trial.DATA)).longs(Trial.DATA, S + Trial.DATA), 8);
+        notWritten(Trial.mapped("REMQUE", 0x0F, Bench.at(S + Trial.DATA), 0x51).longs(Trial.DATA, S + Trial.DATA + 8, 8), 8);
+        notWritten(Trial.mapped("INSQHI", 0x5C, Bench.at(S + Trial.DATA), Bench.at(8)).longs(16 * 512 + 8, S, S), 8);
+        notWritten(Trial.mapped("INSV", 0xF0, 0x01, 0x00, 0x03, Bench.at(8)), 8);
+        notWritten(Trial.mapped("BBSS", 0xE2, 0x00, Bench.at(8), 0x00), 8);
+        notWritten(Trial.mapped("MOVP", 0x34, 0x00, Bench.at(S + Trial.DATA), Bench.at(8)).bytes(Trial.DATA, 0x0C), 8);
+        notWritten(Trial.mapped("CVTPS", 0x08, 0x00, Bench.at(S + Trial.DATA), 0x00, Bench.at(8)).bytes(Trial.DATA, 0x0C), 8);
+        notWritten(Trial.mapped("INCL", 0xD6, Bench.at(8)), 8);
+        notWritten(Trial.mapped("MFPR", 0xDB, 0x12, Bench.at(8)), 8);
+        Trial t = Trial.mapped("MOVC3", 0x28, 0x01, Bench.at(S + Trial.DATA), Bench.at(8));
+        t.longs(Trial.PROCESS_TABLE, 1 << 31 | 15 << 27 | 16).run(1).fault(ACCESS, 0x08000000, 8, 4);
+    }
+
+    private static void notWritten(Trial t, int address) {
+        t.longs(Trial.PROCESS_TABLE, 1 << 31 | 15 << 27 | 16).run(1).fault(ACCESS, 0, address, 4).holds(Trial.PROCESS_TABLE, 4, 0xF8000010L);
     }
 
     private static void twoPages() {
@@ -303,11 +396,13 @@ public final class EdgesOfMemory {
         unmapped();
         lengths();
         tables();
+        tablesOfTables();
         entryOverPages();
         codes();
         keptEntries();
         dropped();
         modified();
+        writes();
         twoPages();
         instructionBytes();
         sums();

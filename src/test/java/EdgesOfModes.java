@@ -42,16 +42,19 @@ public final class EdgesOfModes {
         Trial.of("just enough stack", 0xBC, 0x05).reg(14, 12).run(1).pushed(64, CODE + 2, 0, 5).is(14, 0);
         Trial.of("not enough", 0xBC, 0x05).reg(14, 11).run(1).pushed(8, CODE + 2, 0).is(16, 0x041F0000).reads(0, 11).state(7, 1).state(2, 1);
         Trial.of("no vector", 0xBC, 0x05).special(17, END).run(1).state(0, 2).state(2, 0).is(15, CODE + 2);
+        int[] writers = {-1, -1, 0, -1, 3, 1, 0, -1, 2, 1, 0, -1, 2, 1, 0, -1};
         for (int mode = 0; mode < 4; mode++) {
-            Trial t = Trial.mapped("in the new mode " + mode, 0xBC + mode, 0x05);
-            t.longs(Trial.PROCESS_TABLE, 1 << 31 | 9 << 27 | 16);
-            t.special(mode, 512);
-            t.x.set(16, 0x03000000);
-            t.run(1);
-            if (mode < 2) {
-                t.state(3, 64 + 4 * mode).holds(17 * 512 - 12, 4, 5);
-            } else {
-                t.state(3, 8).holds(17 * 512 - 12, 8, 0);
+            for (int code = 0; code < 16; code++) {
+                Trial t = Trial.mapped("in the new mode " + mode + ", code " + code, 0xBC + mode, 0x05);
+                t.longs(Trial.PROCESS_TABLE, 1 << 31 | code << 27 | 16);
+                t.special(mode, 512);
+                t.x.set(16, 0x03000000);
+                t.run(1);
+                if (mode <= writers[code]) {
+                    t.state(3, 64 + 4 * mode).holds(17 * 512 - 12, 4, 5);
+                } else {
+                    t.state(3, 8).holds(17 * 512 - 12, 8, 0).is(16, 0x04DF0000);
+                }
             }
         }
     }
@@ -126,6 +129,7 @@ public final class EdgesOfModes {
         Trial.of("TP of the old one", 0x02).longs(DATA, 0x1234, 0).status(0x10).reg(14, DATA).run(1).is(16, 0x40000000);
         Trial.of("TP of what was popped", 0x02).longs(DATA, 0x1234, 0x40000000).reg(14, DATA).run(1).is(16, 0x40000000);
         Trial.of("T that was popped", 0x02).longs(DATA, 0x1234, 0x10).reg(14, DATA).run(1).is(16, 0x10);
+        Trial.of("all of PC", 0x02).longs(DATA, 0x89ABCDEF, 5).reg(14, DATA).run(1).fine().is(15, 0x89ABCDEF);
         Trial.of("the last bytes of memory", 0x02).longs(END - 8, 0x1234, 0x0F).reg(14, END - 8).run(1).fine().is(14, END).is(16, 0x0F);
         Trial.of("STATUS is not there", 0x02).longs(END - 4, 0x1234).reg(14, END - 4).run(1).fault(CHECK, 0, END).reads(0, END - 4);
         Trial.of("PC is not there", 0x02).reg(14, -4).run(1).fault(CHECK, 0, -4);
@@ -174,6 +178,9 @@ public final class EdgesOfModes {
         probe(0x0C, 3, 1, 600, 1).longs(Trial.SYSTEM_TABLE + 24, 0x20000006).run(1).fault(36, 1, 600, 2);
         probe(0x0D, 3, 1, 600, 1).longs(Trial.SYSTEM_TABLE + 24, 0x20000006).run(1).fault(36, 1, 600, 6);
         probe(0x0C, 3, 1, 600, 1).longs(Trial.SYSTEM_TABLE + 24, 0xA0000020).run(1).fault(CHECK, 1, END + 4);
+        probe(0x0C, 3, 600, 600, 1).longs(Trial.SYSTEM_TABLE + 24, 0x20000006).run(1).fault(36, 1, 600, 2);
+        probe(0x0C, 3, 600, S + 31 * 512, 1).run(1).fine().flags(5);
+        probe(0x0C, 3, 513, 0x7FFFFE00, 1).longs(Trial.SYSTEM_TABLE, 0x88000000).run(1).fine().flags(5);
         Trial.of("no map", 0x0D, 0x03, 0x05, Bench.at(-1)).status(15).run(1).fine().flags(1);
         Trial.of("a user may ask", 0x0C, 0x00, 0x05, Bench.at(0)).status(0x03C00000).run(1).fine().flags(0);
     }
@@ -189,6 +196,15 @@ public final class EdgesOfModes {
                 t.is(14, is == 0 ? 0x2700 : DATA + 8).holds(last, 4, is == 0 ? DATA + 8 : STACK).holds(last + 72, 8, 0x03C0000000004321L);
                 t.holds(last + 80, 8, 0).holds(last + 88, 8, 0).holds(last + 12, 4, STACK - 0x300).reads(0, is == 0 ? DATA + 8 : STACK);
             }
+        }
+        Trial row = Trial.of("registers", 0x07).special(16, DATA + 0x100).longs(DATA, 0x87654321, 0x93C00005).reg(14, DATA);
+        row.bytes(DATA + 0x100 - 1, Bench.repeated(0xEE, 98));
+        for (int n = 0; n < 14; n++) {
+            row.reg(n, 0x89000000 + n);
+        }
+        row.run(1).fine().holds(DATA + 0x100 - 1, 1, 0xEE).holds(DATA + 0x100 + 72, 8, 0x93C0000587654321L).holds(DATA + 0x100 + 80, 1, 0xEE);
+        for (int n = 0; n < 14; n++) {
+            row.holds(DATA + 0x110 + 4 * n, 4, 0x89000000L + n);
         }
         Trial.of("one byte is not there", 0x07).special(16, last + 1).run(1).fault(CHECK, 0, END).reads(0, STACK);
         Trial.of("none is", 0x07).special(16, END).run(1).fault(CHECK, 0, END);
@@ -233,6 +249,8 @@ public final class EdgesOfModes {
             .reads(19, 2).reads(9, 9).reads(0, STACK);
         Trial entries = Trial.mapped("P0's and P1's entries go, S's stay", 0x90, Bench.at(5), Bench.at(0x7FFFFFFF), 0x06).special(16, DATA)
             .longs(DATA, block(S + STACK, 16)).run(1).state(6, 4).run(1).fine();
+        Trial first = Trial.mapped("S's first slot stays", 0x95, Bench.at(S), 0x06).special(16, DATA).longs(DATA, block(S + STACK, 16)).run(2).fine();
+        first.kept(16, 0x80000000L, 0xA0000000L);
         entries.kept(0, -1, -1).kept(15, -1, -1).kept(17, 0x80000200L, 0xA0000001L).kept(22, 0x80000C00L, 0xA0000006L).state(6, 3);
     }
 

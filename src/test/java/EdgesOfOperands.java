@@ -136,6 +136,10 @@ public final class EdgesOfOperands {
         Trial.of("a D in R13", 0x70, 0x5D, 0x50).reg(13, 0x4080).reg(14, 5).run(1).fine().is(0, 0x4080).is(1, 5);
         Trial.of("an L in SP", 0xD0, 0x5E, 0x50).run(1).fine().is(0, STACK);
         Trial.of("an L into SP", 0xD0, 0x3F, 0x5E).run(1).fine().is(14, 63).reads(0, 63);
+        for (int n = 0; n < 14; n++) {
+            Trial.of("an index in each register", 0xDE, 0x40 + n, Bench.at(1000), 0x50 + (n + 1) % 14).reg(n, 7).run(1).fine().is((n + 1) % 14, 1028);
+            Trial.of("an L in each register", 0xD0, Bench.l(0x89ABCDEF), 0x50 + n, 0xD5, 0x50 + n).run(2).fine().is(n, 0x89ABCDEF).flags(8);
+        }
         Trial.of("SP as an index", 0x9E, 0x4E, 0x61, 0x52).reg(1, 4).run(1).fine().is(2, STACK + 4);
         Trial.of("a B changes the low bits alone", 0x90, 0x05, 0x51).reg(1, -1).run(1).is(1, 0xFFFFFF05);
         Trial.of("a W changes the low bits alone", 0xB0, 0x05, 0x51).reg(1, -1).run(1).is(1, 0xFFFF0005);
@@ -178,6 +182,10 @@ public final class EdgesOfOperands {
         Trial.of("PC and a B, indexed", 0x9E, 0x41, 0xAF, 4, 0x52).reg(1, 3).run(1).is(2, CODE + 4 + 4 + 3);
         Trial.of("at the address that lies behind PC", 0x9E, 0xBF, 1, 0x52, 0x44, 0x33, 0x22, 0x11).run(1).is(2, 0x11223344);
         Trial.of("the second operand's PC", 0xC1, 0x05, 0xEF, Bench.spread(-7, 4), 0x52).run(1).is(2, 0xF9EF05C6).fine();
+        Trial deferred = Trial.mapped("all bytes of an address", 0xD0, 0x91, 0x52, 0xD0, 0xB1, 0xFC, 0x53, 0xD0, 0xFF, Bench.spread(2, 4), 0x54, 0x01)
+            .longs(CODE + 15, 0x80001000);
+        deferred.longs(DATA, 0x89ABCDEF).longs(16 * 512, 0x80001000, 77).reg(1, 0).run(2).fine().is(2, 0x89ABCDEF).is(3, 0x89ABCDEF).is(1, 4);
+        deferred.run(1).fine().is(4, 0x89ABCDEF);
         Trial.of("the L that lies at the end", 0x9E, 0x91, 0x52).reg(1, END - 4).longs(END - 4, 7).run(1).fine().is(2, 7).is(1, END);
         Trial.of("the L that does not", 0x9E, 0x91, 0x52).reg(1, END - 3).run(1).fault(MACHINE_CHECK, 0, END).is(1, END - 3);
         Trial.of("an address at a displacement, not there", 0x9E, 0xB1, 1, 0x52).reg(1, END - 4).run(1).fault(MACHINE_CHECK, 0, END);
@@ -199,6 +207,15 @@ public final class EdgesOfOperands {
             .run(1).pushed(MACHINE_CHECK, END - 7, 0, 0x7000);
         Trial.of("a displacement that is not there", 0x01).bytes(END - 7, Bench.code(0xF2, 0x05, Bench.at(DATA))).reg(15, END - 7)
             .run(1).pushed(MACHINE_CHECK, END - 7, 0, END).holds(DATA, 4, 0);
+        Trial over = Trial.mapped("in two pages, changed in place", 0xC0, Bench.l(0x01010101), Bench.at(510)).longs(Trial.PROCESS_TABLE + 4, 0xA0000014);
+        over.bytes(17 * 512 - 2, 1, 2).bytes(20 * 512, 3, 4, 5).run(1).fine().holds(17 * 512 - 2, 2, 0x0302).holds(20 * 512, 4, 0x050504);
+        over.holds(17 * 512, 4, 0);
+        over = Trial.mapped("two results, both in two pages", 0x7B, Bench.l(0x1000000), Bench.q(0x0011223344556677L), Bench.at(511), Bench.at(1022));
+        over.longs(Trial.PROCESS_TABLE + 4, 0xA0000014, 0xA0000018).run(1).fine().holds(17 * 512 - 1, 1, 0x44).holds(20 * 512, 4, 0x112233);
+        over.holds(21 * 512 - 2, 2, 0x6677).holds(24 * 512, 2, 0x0055).holds(17 * 512, 4, 0).holds(21 * 512, 4, 0);
+        over = Trial.mapped("two results, one in two pages", 0x7B, Bench.l(0x1000000), Bench.q(0x0011223344556677L), Bench.at(4), Bench.at(511));
+        over.longs(Trial.PROCESS_TABLE + 4, 0xA0000014).run(1).fine().holds(16 * 512 + 4, 4, 0x11223344).holds(17 * 512 - 1, 1, 0x77);
+        over.holds(20 * 512, 4, 0x005566);
         Trial.of("results see what operands left", 0xDD, 0x8E).longs(STACK, 0x55).run(1).fine().holds(STACK, 4, 0x55).is(14, STACK);
         Trial.of("an address ahead of the push", 0x9F, 0x6E).run(1).fine().holds(STACK - 4, 4, STACK).is(14, STACK - 4);
     }

@@ -106,6 +106,14 @@ public final class EdgesOfStrings {
             .bytes(DATA, 0, 5).bytes(TABLE + 5, 1).run(1).fine().flags(0).is(0, 1);
         Trial.of("no more to move ahead of the place", 0x2F, 0x01, Bench.at(DATA), 0x01, Bench.at(TABLE), 0x05, Bench.at(TO)).longs(TO, -1)
             .run(1).fine().flags(9).is(0, 0).is(2, 4).holds(TO, 4, 0xFFFFFF00L);
+        int[] up = new int[256];
+        for (int i = 0; i < 256; i++) {
+            up[i] = 255 - i;
+        }
+        Trial.of("MOVTUC's table", 0x2F, 0x05, Bench.at(DATA), 0x07, Bench.at(TABLE), 0x05, Bench.at(TO)).bytes(TABLE, up)
+            .bytes(DATA, 0, 1, 254, 248, 3).run(1).fine().flags(6).holds(TO, 8, 0x01FEFF).is(0, 2).is(1, DATA + 3).is(2, 2).is(3, TO + 3);
+        Trial.of("MOVTC's table", 0x2E, 0x03, Bench.at(DATA), 0x07, Bench.at(TABLE), 0x05, Bench.at(TO)).bytes(TABLE, up)
+            .bytes(DATA, 0, 1, 254).run(1).fine().flags(9).holds(TO, 8, 0x070701FEFFL);
         Trial.of("a table's address wraps", 0x2E, 0x01, Bench.at(DATA), 0x20, Bench.at(-1), 0x01, Bench.at(TO)).bytes(DATA, 1).bytes(0, 0x55)
             .run(1).fine().holds(TO, 1, 0x55);
     }
@@ -124,6 +132,9 @@ public final class EdgesOfStrings {
             .is(0, 0).is(1, DATA + 2).is(2, 1).is(3, TO + 3);
         Trial.of("fill on the other side", 0x2D, 0x04, Bench.at(DATA), 0x20, 0x02, Bench.at(TO)).bytes(TO, 1, 2).bytes(DATA, 1, 2, 0x20, 0x20)
             .run(1).flags(4).is(0, 0).is(1, DATA + 4).is(3, TO + 2);
+        Trial.of("an odd fill", 0x2D, 0x00, Bench.at(DATA), 0x21, 0x01, Bench.at(TO)).bytes(TO, 0x20).run(1).flags(0).is(2, 1);
+        Trial.of("what R4, R5 were", 0x29, Bench.w(100), Bench.at(DATA), Bench.at(TO)).reg(4, 77).reg(5, 88).run(1).is(16, FPD).is(4, 0).is(5, 88)
+            .run(1).fine1().is(4, 0).is(5, 0).is(6, 0);
         Trial.of("LOCC at the first", 0x3A, 0x00, 0x05, Bench.at(DATA)).status(15).run(1).flags(0).is(0, 5).is(1, DATA);
         Trial.of("LOCC at the last", 0x3A, 0x09, 0x05, Bench.at(DATA)).bytes(DATA + 4, 9).run(1).flags(0).is(0, 1).is(1, DATA + 4);
         Trial.of("LOCC behind the last", 0x3A, 0x09, 0x04, Bench.at(DATA)).bytes(DATA + 4, 9).run(1).flags(4).is(0, 0).is(1, DATA + 4);
@@ -134,6 +145,11 @@ public final class EdgesOfStrings {
         Trial.of("SPANC, mask 0", 0x2B, 0x03, Bench.at(DATA), Bench.at(TABLE), 0x00).bytes(TABLE, 0xFF).run(1).flags(0).is(0, 3);
         Trial.of("SCANC, bit 7", 0x2A, 0x03, Bench.at(DATA), Bench.at(TABLE), Bench.b(0x80)).bytes(DATA, 0, 0xFF).bytes(TABLE + 255, 0x80).run(1)
             .flags(0).is(0, 2).is(2, 0);
+        Trial.of("SCANC of the byte 0", 0x2A, 0x03, Bench.at(DATA), Bench.at(TABLE), 0x01).bytes(DATA, 1, 0).bytes(TABLE, 1).run(1).flags(0).is(0, 2);
+        Trial.of("SPANC of the byte 0", 0x2B, 0x03, Bench.at(DATA), Bench.at(TABLE), 0x01).bytes(DATA, 0, 1).bytes(TABLE, 1).run(1).flags(0).is(0, 2);
+        Trial.of("SCANC's mask is a byte", 0x2A, Bench.w(100), Bench.at(DATA), Bench.at(TABLE), Bench.b(0x80)).run(1).is(2, 16 << 16 | 0x80).is(3, TABLE)
+            .is(0, 0);
+        Trial.of("LOCC's byte is one", 0x3A, Bench.b(0x80), Bench.w(100), Bench.at(DATA)).reg(3, 33).run(1).is(2, 11 << 16 | 0x80).is(3, 33);
         Trial.of("SCANC's table wraps", 0x2A, 0x01, Bench.at(DATA), Bench.at(-1), 0x01).bytes(DATA, 1).bytes(0, 1).run(1).fine().flags(0).is(3, -1);
         Trial.of("MATCHC, all of it", 0x39, 0x03, Bench.at(DATA), 0x03, Bench.at(TO)).bytes(DATA, 1, 2, 3).bytes(TO, 1, 2, 3).run(1).flags(4)
             .is(2, 0).is(3, TO + 3).is(0, 3).is(1, DATA);
@@ -144,6 +160,22 @@ public final class EdgesOfStrings {
             .flags(0).is(2, 0).is(3, TO + 4);
         Trial.of("MATCHC begins anew behind the first", 0x39, 0x03, Bench.at(DATA), 0x05, Bench.at(TO)).bytes(DATA, 1, 1, 2)
             .bytes(TO, 1, 1, 1, 2, 9).run(1).flags(4).is(2, 1).is(3, TO + 4);
+        Trial.of("MATCHC of the byte 0", 0x39, 0x01, Bench.at(DATA), 0x03, Bench.at(TO)).bytes(TO, 5, 6, 0).reg(4, 77).reg(5, 88).run(1).fine().flags(4)
+            .is(2, 0).is(3, TO + 3).is(4, 0).is(5, 0);
+        Trial.of("MATCHC finds nothing, what R4, R5 were", 0x39, 0x01, Bench.at(DATA), 0x02, Bench.at(TO)).bytes(TO, 5, 6).reg(4, 77).reg(5, 88).run(1)
+            .fine().flags(0).is(4, 0).is(5, 0);
+        int[] table = new int[16];
+        for (int i = 0; i < 16; i++) {
+            table[i] = i * 0x11111111 ^ 0x80402010;
+        }
+        int crc = 0x89ABCDEF;
+        for (int value : new int[] {0xFF, 0x5A, 0x00}) {
+            crc ^= value;
+            crc = crc >>> 4 ^ table[crc & 15];
+            crc = crc >>> 4 ^ table[crc & 15];
+        }
+        Trial.of("CRC", 0x0B, Bench.at(TABLE), Bench.l(0x89ABCDEF), 0x03, Bench.at(DATA)).longs(TABLE, table).bytes(DATA, 0xFF, 0x5A, 0).status(3).run(1)
+            .fine().is(0, crc).is(1, 0).is(2, 0).is(3, DATA + 3).flags((crc < 0 ? 8 : 0) | (crc == 0 ? 4 : 0));
         Trial.of("CRC's table wraps", 0x0B, Bench.at(-4), 0x00, 0x01, Bench.at(DATA)).bytes(DATA, 0x11).longs(0, 0x10000000).run(1).fine()
             .is(0, 0x11000000).flags(0);
         Trial.of("CRC's last entry", 0x0B, Bench.at(TABLE), 0x00, 0x01, Bench.at(DATA)).bytes(DATA, 0xFF).longs(TABLE + 60, 0x80000000).run(1)
