@@ -457,7 +457,31 @@ public final class EdgesOfCalls {
         bootEnds();
     }
 
+    private static void bootForgets() {
+        Trial t = Trial.mapped("boot", 0x90, Bench.at(0), Bench.at(Trial.S + 15 * 512)).run(1);
+        Bench.due("the first and the last", t.x.kept(0, 0) + t.x.kept(31, 0), 2);
+        for (int k = 0; k < 14; k++) {
+            t.reg(k, 0x1000 + k);
+        }
+        for (int k = 0; k < 5; k++) {
+            t.special(k, 0x2000 + k);
+        }
+        Bench.yes("halt", t.x.halt());
+        Bench.yes("boot", t.x.boot(7, 1, 0x600));
+        t.state(6, 0).is(14, 0x800).is(15, 0x600).reads(4, 0x800);
+        for (int k = 0; k < 32; k++) {
+            t.kept(k, -1, -1);
+        }
+        for (int k = 0; k < 14; k++) {
+            t.is(k, 0);
+        }
+        for (int k = 0; k < 4; k++) {
+            t.reads(k, 0);
+        }
+    }
+
     private static void bootEnds() {
+        bootForgets();
         RingComputer x = rich(true);
         x.write(18, 0);
         long steps = x.state(1);
@@ -569,6 +593,35 @@ public final class EdgesOfCalls {
         }
     }
 
+    /** What can't be seen when it is brought again, but comes out later. */
+    private static void hiddenIsAgain() {
+        Trial t = Trial.mapped("the kept entry's place", 0x95, Bench.at(5), 0x94, Bench.at(5)).run(1);
+        t.x.keep(0);
+        t.longs(Trial.PROCESS_TABLE + 64, 0xA0000010).special(8, (Trial.S | Trial.PROCESS_TABLE) + 64).run(1).holds(Trial.PROCESS_TABLE + 64, 4, 0xA4000010L);
+        Bench.yes("back", t.x.back(0));
+        t.run(1).fine().holds(Trial.PROCESS_TABLE, 4, 0xA4000010L).holds(Trial.PROCESS_TABLE + 64, 4, 0);
+        Trial pending = Trial.of("a request", 0x11, 0xFE).special(32, 64);
+        pending.x.keep(1);
+        pending.x.key(5);
+        pending.x.keep(0);
+        pending.run(1).state(3, 248);
+        Bench.yes("back", pending.x.back(0));
+        pending.state(2, 0).run(1).state(3, 248).state(2, 1);
+        Bench.yes("back", pending.x.back(0));
+        Bench.yes("back", pending.x.back(1));
+        pending.run(1).state(2, 0);
+        Trial typed = Trial.of("typed bytes", 0x11, 0xFE).special(35, 0x41).run(3);
+        typed.x.keep(0);
+        for (int i = 0; i < 64; i++) {
+            typed.x.write(35, 0x42);
+            typed.x.run(3);
+        }
+        Bench.due("typed", typed.x.typed(63), 0x42);
+        Bench.yes("back", typed.x.back(0));
+        Bench.due("typed again", typed.x.typed(0), 0x41);
+        Bench.due("one alone", typed.x.typed(1), -1);
+    }
+
     private static void promises20and21() {
         Bench.part("promise 20");
         RingComputer x = withSectors(true);
@@ -644,6 +697,7 @@ public final class EdgesOfCalls {
         promise17();
         promises18and19();
         allIsAgain();
+        hiddenIsAgain();
         promises20and21();
         promise22();
         ownMemory();

@@ -98,6 +98,7 @@ public final class EdgesOfDevices {
         t = idle("TRANSFER and SINGLE").special(25, 9).special(24, 0x30).reads(26, 10);
         t = idle("TRANSFER with RUN").special(25, 9).special(24, 0x11).reads(26, 9).run(2).reads(26, 11);
         t = idle("the greatest and the least").special(25, 0x7FFFFFFF).special(24, 0x30).reads(26, 0x80000000L).reads(24, 0);
+        t = idle("RUN is not TRANSFER").special(25, 9).special(24, 1).reads(26, 0).special(24, 0x40).reads(26, 0).special(24, 0x80).reads(26, 0);
         t = idle("not without RUN").run(5).reads(26, 0);
         t = idle("to -1 is not from -1").special(25, -3).special(24, 0x51).run(2).reads(26, 0xFFFFFFFFL).reads(24, 0x41).state(2, 0);
         t.run(1).reads(26, 0xFFFFFFFDL).reads(24, 0xC1).state(3, 192);
@@ -130,7 +131,7 @@ public final class EdgesOfDevices {
         t.run(1).is(1, 128).reads(32, 128);
         t = idle("ENABLED while THERE").special(32, 0x80).reads(32, 0);
         t.x.key(1);
-        t.run(1).state(2, 0).special(32, 64).reads(32, 0xC0).run(1).state(3, 248).state(2, 1);
+        t.run(1).state(2, 0).special(32, 0x80).special(32, 0).special(32, 1).run(1).state(2, 0).special(32, 64).reads(32, 0xC0).run(1).state(3, 248).state(2, 1);
         t = idle("THERE while ENABLED").special(32, 64).run(1).state(2, 0);
         Bench.yes("key", t.x.key(1));
         t.run(1).state(3, 248);
@@ -157,6 +158,7 @@ public final class EdgesOfDevices {
         t.run(1).state(3, 252).state(2, 1).special(18, 0).run(5).state(2, 1);
         t.special(35, 1).run(2).state(2, 1).run(1).state(2, 2);
         t = idle("TYPED when ENABLED becomes 1").special(34, 64).run(1).state(3, 252);
+        t = idle("not ENABLED").special(34, 0x80).special(34, 0).special(34, 1).run(1).state(2, 0);
         t = idle("not while it is not READY").special(35, 1).special(34, 64).run(1).state(2, 0);
         t = idle("nothing goes on while HALTED").special(35, 1);
         t.x.halt();

@@ -62,6 +62,8 @@ public final class EdgesOfFields {
         Trial.of("one bit with sign", 0xEE, 0x1F, 0x01, 0x51, 0x52).reg(1, LEAST).status(3).run(1).is(2, -1).flags(8);
         Trial.of("one bit without", 0xEF, 0x1F, 0x01, 0x51, 0x52).reg(1, LEAST).status(3).run(1).is(2, 1).flags(0);
         Trial.of("size 0", 0xEE, 0x00, 0x00, 0x51, 0x52).reg(1, -1).reg(2, 9).status(11).run(1).is(2, 0).flags(4);
+        Trial.of("size 0 behind another", 0xEF, 0x00, 0x20, 0x51, 0x52, 0xEF, 0x00, 0x00, 0x51, 0x53, 0xED, 0x00, 0x00, 0x51, 0x00).reg(1, -1).reg(3, 9)
+            .run(2).fine().is(2, -1).is(3, 0).flags(4).run(1).flags(4);
         Trial.of("size 0 compared", 0xEC, 0x00, 0x00, 0x51, 0x01).reg(1, -1).run(1).flags(9);
         Trial.of("size 0 compared", 0xED, 0x00, 0x00, 0x51, 0x00).reg(1, -1).status(15).run(1).flags(4);
         Trial.of("32 bits compared, with the L", 0xED, 0x00, 0x20, 0x51, Bench.l(1)).reg(1, -1).run(1).flags(8);
@@ -153,6 +155,7 @@ public final class EdgesOfFields {
         Trial.of("b's is not", 0x0E, Bench.at(a), Bench.at(END)).run(1).fault(CHECK, 0, END);
         Trial.of("the next one's is not", 0x0E, Bench.at(a), Bench.at(h)).longs(h, END, 9).run(1).fault(CHECK, 0, END + 4).holds(a, 8, 0)
             .holds(h, 4, END);
+        Trial.of("b is the last L of memory", 0x0E, Bench.at(a), Bench.at(END - 4)).longs(END - 4, DATA + 0x40).run(1).fine().holds(END - 4, 4, a);
         Trial.of("the last bytes of memory", 0x0E, Bench.at(END - 8), Bench.at(h)).longs(h, h, h).run(1).fine();
         Trial.of("alone", 0x0F, Bench.at(h), 0x52).longs(h, h, h).status(9).run(1).fine().flags(6).is(2, h).holds(h, 8, (long) h << 32 | h);
         Trial.of("forward is itself, back is not", 0x0F, Bench.at(h), 0x52).longs(h, h, a).run(1).fine().flags(9).holds(a, 4, h)
@@ -227,6 +230,9 @@ public final class EdgesOfFields {
                 .flags(4).is(2, a).holds(h, 8, 0);
             Trial.of("the place is not there", opcode, Bench.at(h), Bench.at(END)).longs(h, 0x20, 0x20).longs(a, -0x20, -0x20).run(1)
                 .fault(CHECK, 0, END).holds(h, 8, 0x2000000020L);
+            Trial.of("empty at the end of memory", opcode, Bench.at(END - 8), 0x52).run(1).fine().flags(6);
+            Trial.of("the only one at the end of memory", opcode, Bench.at(h), 0x52).longs(h, END - 8 - h, END - 8 - h)
+                .longs(END - 8, h - END + 8, h - END + 8).run(1).fine().flags(4).is(2, END - 8).holds(h, 8, 0);
             Trial two = Trial.of("one of two", opcode, Bench.at(h), 0x52).longs(h, 0x20, 0x40).longs(a, 0x20, -0x20).longs(a + 0x20, -0x40, -0x20);
             two.status(15).run(1).fine().flags(0).is(2, opcode == 0x5E ? a : a + 0x20);
             two.holds(h, 8, opcode == 0x5E ? 0x4000000040L : 0x2000000020L);

@@ -142,6 +142,8 @@ public final class EdgesOfIntegers {
             .is(15, CODE + 7 + 4).flags(4);
         Trial.of("beyond with the limit 254", 0x8F, immediate(-1, 1), immediate(0, 1), immediate(-2, 1)).run(1)
             .is(15, CODE + 7 + 510).flags(0);
+        Trial.of("the last W of memory", 0x01).bytes(Trial.END - 6, 0x8F, 0x00, 0x00, 0x00, 0x04, 0x00).reg(15, Trial.END - 6).run(1).fine()
+            .is(15, Trial.END - 2 + 4);
         int behind = CODE + 16;
         Trial.of("2 * t wraps", 0xCF, Bench.l(LEAST + 1), 0x8F, Bench.spread(0, 4), Bench.l(-1), table).run(1).is(15, behind - 0x10).flags(8 + 1);
         Trial.of("2 * (limit + 1) wraps", 0xCF, Bench.l(-1), Bench.l(0), Bench.l(-2), table).run(1).is(15, behind - 2).flags(0);

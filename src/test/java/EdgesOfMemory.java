@@ -145,7 +145,7 @@ public final class EdgesOfMemory {
         t.special(12, END - six);
         where("none is", t, 7, true, -100);
         t.special(12, -six);
-        where("the first L of memory", t, 7, false, 16 * 512 + 7);
+        where("the first L of memory", t, 9, false, 16 * 512 + 9);
         t.special(12, -six - 1);
         where("ahead of it", t, 7, false, -100);
         t.special(12, Trial.SYSTEM_TABLE).special(8, (S | Trial.PROCESS_TABLE) + 1).longs(Trial.PROCESS_TABLE + 1, 0xA0000013);

@@ -216,6 +216,9 @@ public final class EdgesOfOperands {
         over = Trial.mapped("two results, one in two pages", 0x7B, Bench.l(0x1000000), Bench.q(0x0011223344556677L), Bench.at(4), Bench.at(511));
         over.longs(Trial.PROCESS_TABLE + 4, 0xA0000014).run(1).fine().holds(16 * 512 + 4, 4, 0x11223344).holds(17 * 512 - 1, 1, 0x77);
         over.holds(20 * 512, 4, 0x005566);
+        Trial once = Trial.mapped("m is translated once", 0x01).longs(Trial.PROCESS_TABLE + 64, 0xA0000018, 0xA0000019).special(9, 18).reg(15, 505);
+        once.bytes(17 * 512 - 7, Bench.code(0xF2, 0x05, Bench.at(17 * 512 + 8))).run(1).fine().holds(25 * 512 + 8, 4, 1);
+        once.kept(1, 512, 0xA0000011L).holds(Trial.PROCESS_TABLE + 68, 4, 0xA4000019L);
         Trial.of("results see what operands left", 0xDD, 0x8E).longs(STACK, 0x55).run(1).fine().holds(STACK, 4, 0x55).is(14, STACK);
         Trial.of("an address ahead of the push", 0x9F, 0x6E).run(1).fine().holds(STACK - 4, 4, STACK).is(14, STACK - 4);
     }
