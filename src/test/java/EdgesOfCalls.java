@@ -480,8 +480,42 @@ public final class EdgesOfCalls {
         }
     }
 
+    private static void bootResets() {
+        RingComputer x = new RingComputer(PAGES, 2);
+        x.key(200);
+        x.write(25, 0x7777);
+        x.write(24, 0x71);
+        for (int k : WRITABLE) {
+            if (k != 24 && k != 25 && k != 57 && k != 58) {
+                x.write(k, k == 19 ? 3 : k == 20 ? 5 : 0x7FFFFF41);
+            }
+        }
+        x.set(16, 0x03C000EF);
+        for (int k = 0; k < 16; k++) {
+            x.set(k, -1 - k);
+        }
+        for (int k : READABLE) {
+            Bench.yes("special " + k + " is not as at first", k == 62 || k == 18 || x.special(k) != 0);
+        }
+        Bench.yes("boot", x.boot(1, 1, 512));
+        for (int k : READABLE) {
+            long want = k == 18 ? 31 : k == 34 || k == 50 ? 128 : k == 62 ? 0x01000611 : k == 27 ? 0x7FFFFF41 : k == 33 ? 200 : k == 4 ? 1024 : 0;
+            Bench.due("special " + k + " behind boot", x.special(k), want);
+        }
+        for (int k = 0; k < 16; k++) {
+            Bench.due("register " + k + " behind boot", x.register(k), k == 14 ? 1024 : k == 15 ? 512 : 0);
+        }
+        Bench.due("STATUS behind boot", x.register(16), 0x041F0000);
+        Bench.due("typed", x.typed(0), 0x41);
+        Bench.due("typed in all", x.state(4), 1);
+        Bench.yes("a key may come again", x.key(1));
+        x.write(24, 0x10);
+        Bench.due("NEXT behind boot", x.special(26), 0);
+    }
+
     private static void bootEnds() {
         bootForgets();
+        bootResets();
         RingComputer x = rich(true);
         x.write(18, 0);
         long steps = x.state(1);

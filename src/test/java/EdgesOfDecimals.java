@@ -201,6 +201,16 @@ public final class EdgesOfDecimals {
             .bytes(SECOND, 0x1C).run(2).flags(0).holds(TABLE, 4, '+' | '0' << 8 | '0' << 16 | (long) '1' << 24).is(5, 0);
         Trial.of("EDITPC behind a long one", Bench.code(long31, 0x38, 0x01, Bench.at(SECOND), Bench.at(SECOND + 1), Bench.at(TABLE)))
             .bytes(DATA, packed(NINES, 31)).bytes(SECOND, 0x0C, 0x91, 0).run(2).flags(4).holds(TABLE, 2, ' ');
+        Trial.of("CMPP4 writes nothing", Bench.code(long31, 0x37, 0x01, Bench.at(SECOND), 0x01, Bench.at(SECOND))).bytes(DATA, packed(NINES, 31))
+            .bytes(SECOND, 0x1C).run(1).bytes(THIRD, 0xEE).run(1).state(7, 2).holds(THIRD, 1, 0xEE);
+        Trial.of("CVTPL writes nothing", Bench.code(long31, 0x36, 0x01, Bench.at(SECOND), 0x57)).bytes(DATA, packed(NINES, 31))
+            .bytes(SECOND, 0x1C).run(1).bytes(THIRD, 0xEE).run(1).state(7, 2).holds(THIRD, 1, 0xEE);
+        Trial.of("CVTPT of none writes nothing", Bench.code(long31, 0x24, 0x01, Bench.at(SECOND), Bench.at(TABLE), 0x00, Bench.at(SECOND)))
+            .bytes(DATA, packed(NINES, 31)).bytes(SECOND, 0x1C).run(1).bytes(THIRD, 0xEE).run(1).state(7, 2).holds(THIRD, 1, 0xEE).holds(SECOND, 1, 0x1C);
+        int[] edited = Bench.code(0x38, 0x01, Bench.at(SECOND), Bench.at(SECOND + 1), Bench.at(THIRD));
+        Trial.of("EDITPC behind EDITPC", Bench.code(edited, 0x38, 0x01, Bench.at(SECOND + 8), Bench.at(SECOND + 9), Bench.at(TABLE)))
+            .bytes(SECOND, 0x1D, 0x04, '*', 0x91, 0x03).bytes(SECOND + 8, 0x0C, 0x03, 0x91).run(2).state(7, 2).flags(4).holds(TABLE, 4, ' ' << 8 | ' ')
+            .is(5, TABLE + 2);
         Trial.of("by 0 behind a result", Bench.code(long31, 0x27, 0x01, Bench.at(SECOND), 0x01, Bench.at(SECOND), 0x01, Bench.at(TABLE)))
             .bytes(DATA, packed(NINES, 31)).bytes(SECOND, 0x0C).run(2).state(7, 2).state(3, 52).holds(TABLE, 1, 0);
     }
@@ -399,9 +409,12 @@ public final class EdgesOfDecimals {
             .fault(RESERVED, 0);
         Trial.of("the table's byte is not there", 0x24, 0x01, Bench.at(DATA), Bench.at(END - 0x5D), 0x01, Bench.at(THIRD)).bytes(DATA, 0x5D).run(1)
             .fault(CHECK, 0, END).holds(THIRD, 1, 0);
+        Trial.of("the table's byte is 0", 0x24, 0x01, Bench.at(DATA), Bench.at(TABLE), 0x01, Bench.at(THIRD)).bytes(DATA, 0x5D).bytes(THIRD, 0xEE).run(1)
+            .fine().holds(THIRD, 1, 0).flags(8);
         Trial.of("the table's last byte is", 0x24, 0x01, Bench.at(DATA), Bench.at(END - 0x5E), 0x01, Bench.at(THIRD)).bytes(DATA, 0x5D).run(1).fine();
         Trial.of("back", 0x26, 0x03, Bench.at(DATA), Bench.at(TABLE), 0x03, Bench.at(THIRD)).bytes(DATA, Bench.text("12x")).bytes(TABLE + 'x', 0x3B)
-            .status(3).run(1).fine().flags(8).holds(THIRD, 4, 0x3D12).is(1, DATA).is(3, THIRD);
+            .reg(0, 9).reg(2, 9).reg(4, 9).reg(5, 9).status(3).run(1).fine().flags(8).holds(THIRD, 4, 0x3D12).is(0, 0).is(1, DATA).is(2, 0).is(3, THIRD)
+            .is(4, 0).is(5, 0);
         Trial.of("back: one character", 0x26, 0x01, Bench.at(DATA), Bench.at(TABLE), 0x01, Bench.at(THIRD)).bytes(DATA, 0xFF).bytes(TABLE + 255, 0x9A)
             .run(1).fine().holds(THIRD, 1, 0x9C);
         Trial.of("back: no characters, no table", 0x26, 0x00, Bench.at(END), Bench.at(END), 0x03, Bench.at(THIRD)).run(1).fine().flags(4)
@@ -463,6 +476,9 @@ public final class EdgesOfDecimals {
         edit("7 without significance", 1, code(0x1C), 0x07, ',', 0x91, 0x07, '.', 0).run(1).fine().holds(THIRD, 4, '.' << 16 | '1' << 8 | ' ');
         edit("1 ends significance", 2, code(0x01, 0x0C), 0x92, 0x01, 0x07, ',', 0).run(1).fine().holds(THIRD, 4, ' ' << 16 | '0' << 8 | '1').flags(0);
         edit("floating, from the first", 1, code(0x1D), 0xA1, 0).run(1).fine().holds(THIRD, 4, '1' << 8 | '-');
+        edit("floating, 15 digits", 15, packed(big(123456789012345L), 15), 0xAF, 0).run(1).fine().is(5, THIRD + 16).holds(THIRD, 2, '1' << 8 | ' ')
+            .holds(THIRD + 15, 2, '5');
+        edit("floating, 1 to 15 digits", 15, packed(big(0), 15), 0xAF, 0).run(1).fine().is(5, THIRD + 15);
         edit("floating, all 0", 2, code(0x00, 0x0C), 0xA2, 0).run(1).fine().holds(THIRD, 4, ' ' << 8 | ' ').flags(4);
         edit("fill in floating", 3, code(0x00, 0x5C), 0x04, '*', 0xA3, 0).run(1).fine().holds(THIRD, 4, (long) '5' << 24 | ' ' << 16 | '*' << 8 | '*');
         edit("no byte of the pattern", 0, code(0x0C), 0).run(1).fine().is(5, THIRD).is(3, TABLE).is(1, DATA).is(0, 0).is(2, 0).is(4, 0);
@@ -472,6 +488,10 @@ public final class EdgesOfDecimals {
             .fault(CHECK, 0, END);
         Trial.of("a byte behind 4 that is not there", 0x38, 0x00, Bench.at(DATA), Bench.at(END - 1), Bench.at(THIRD)).bytes(DATA, 0x0C)
             .bytes(END - 1, 4).run(1).fault(CHECK, 0, END);
+        Trial.of("a byte behind 9 is not read", 0x38, 0x00, Bench.at(DATA), Bench.at(END - 1), Bench.at(THIRD)).bytes(DATA, 0x0C).bytes(END - 1, 9).run(1)
+            .fault(RESERVED, 0);
+        Trial.of("nor one behind the 200th", 0x38, 0x00, Bench.at(DATA), Bench.at(END - 200), Bench.at(THIRD)).bytes(DATA, 0x0C)
+            .bytes(END - 200, Bench.repeated(1, 200)).bytes(END - 1, 4).run(1).fault(RESERVED, 0);
         Trial.of("a place that is not there", 0x38, 0x01, Bench.at(DATA), Bench.at(TABLE), Bench.at(END)).bytes(DATA, 0x1C).bytes(TABLE, 0x91).run(1)
             .fault(CHECK, 0, END);
         Trial.of("nothing written to it", 0x38, 0x00, Bench.at(DATA), Bench.at(TABLE), Bench.at(END)).bytes(DATA, 0x0C).run(1).fine().is(5, END);

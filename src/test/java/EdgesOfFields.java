@@ -298,6 +298,8 @@ public final class EdgesOfFields {
         Trial.of("CALLS, a count of 255", 0x04).reg(13, DATA).longs(DATA + 4, 0x20000000, 1, 2, 3, 0xFF).run(1).fine().is(14, DATA + 24 + 1020);
         Trial.of("CALLS, the count is not there", 0x04).reg(13, END - 20).longs(END - 16, 0x20000000, 1, 2, 3).run(1).fault(CHECK, 0, END)
             .is(13, END - 20).is(12, 0);
+        Trial.of("CALLS, the count is the last L", 0x04).reg(13, END - 24).longs(END - 20, 0x20000000, 1, 2, 3, 1).run(1).fine().is(14, END + 4);
+        Trial.of("CALLS, one byte of it is not there", 0x04).reg(13, END - 24).longs(END - 20, 0x60000000, 1, 2, 3, 1).run(1).fault(CHECK, 0, END);
         Trial.of("bit 28 is not looked at", 0x04).reg(13, DATA).longs(DATA + 4, 0x10000000, 1, 2, 3).run(1).fine().is(14, DATA + 20);
         Trial.of("one register", 0x04).reg(13, DATA).longs(DATA + 4, 0x08000000, 1, 2, 3, 4).run(1).fine().is(11, 4).is(14, DATA + 24);
         Trial.of("FP at the last address", 0x04).reg(13, -4).longs(0, 0, 1, 2, 3).run(1).fine().is(14, 16);

@@ -91,8 +91,8 @@ public final class EdgesOfFloats {
         for (int width = 0; width < 2; width++) {
             boolean wide = width == 1;
             long ones = (1L << (wide ? 55 : 23)) - 1;
-            int[] exponents = {1, 2, 127, 128, 129, 152, 153, 184, 185, 254, 255};
-            long[] fractions = {0, 1, ones};
+            int[] exponents = {1, 2, 127, 128, 129, 152, 184, 254, 255};
+            long[] fractions = {0, 1, ones, 0x2B5A5A5A5A5A5AL & ones, 0x5353579BDF0246L & ones};
             int many = 1 + 2 * exponents.length * fractions.length;
             long[] bits = new long[many];
             Number[] numbers = new Number[many];
@@ -147,6 +147,29 @@ public final class EdgesOfFloats {
             : aligned(b, power));
         result(name(opcode, aBits, bBits), wide, Bench.code(opcode, immediate(wide, aBits), immediate(wide, bBits), Bench.at(DATA)),
             whole.signum() < 0 ? 1 : 0, whole.abs(), BigInteger.ONE, power, 0);
+    }
+
+    /** Two operands, and one instruction behind the other: what an earlier one left does not count. */
+    private static void twoOperands() {
+        Bench.part("two operands");
+        for (int width = 0; width < 2; width++) {
+            boolean wide = width == 1;
+            int o = wide ? 0x60 : 0x40;
+            long one = bits(wide, 0, 129, 0);
+            long three = bits(wide, 0, 130, 1L << (wide ? 54 : 22));
+            long[] due = {bits(wide, 0, 131, 0), bits(wide, 0, 130, 0), three, three};
+            for (int kind = 0; kind < 4; kind++) {
+                int[] code = Bench.code(o + 2 * kind, immediate(wide, one), Bench.at(DATA));
+                Trial.of("with two operands " + kind, code).bytes(DATA, Bench.spread(three, wide ? 8 : 4)).status(3).run(1).fine().flags(0)
+                    .holds(DATA, wide ? 8 : 4, due[kind]);
+            }
+            int[] first = Bench.code(o + 1, immediate(wide, one), immediate(wide, three), Bench.at(DATA));
+            int[] second = Bench.code(o + 5, immediate(wide, 0), immediate(wide, three), Bench.at(DATA));
+            int[] third = Bench.code(o + 5, immediate(wide, 0x80), immediate(wide, 0x80), Bench.at(DATA));
+            Trial.of("0 behind another", Bench.code(first, second)).run(2).fine().flags(4).holds(DATA, 8, 0);
+            Trial.of("too small behind another", Bench.code(first, third)).run(2).fine().flags(4).holds(DATA, 8, 0);
+            Trial.of("a whole 0 behind another", Bench.code(first, o + 0x0E, 0x00, Bench.at(DATA))).run(2).fine().flags(4).holds(DATA, 8, 0);
+        }
     }
 
     private static void reserved() {
@@ -325,6 +348,7 @@ public final class EdgesOfFloats {
 
     public static void main(String[] args) {
         pairs();
+        twoOperands();
         reserved();
         toWhole();
         fromWhole();

@@ -202,6 +202,20 @@ public final class EdgesOfStrings {
         t.run(1).holds(TO, 8, 0x0807060504030201L).is(15, S(CODE + 12)).flags(4).is(16, 4).state(7, 1);
     }
 
+    /** Several on one computer: nothing of an earlier one stays in a later one. */
+    private static void oneBehindTheOther() {
+        Bench.part("one behind the other");
+        int[] escape = Bench.code(0x2F, 0x01, Bench.at(DATA), 0x00, Bench.at(TABLE), 0x01, Bench.at(TO));
+        Trial.of("V of an escape", Bench.code(escape, 0x28, 0x01, Bench.at(DATA), Bench.at(TO))).run(1).flags(6).run(1).fine().flags(4);
+        Trial.of("V of an escape, MOVTUC", Bench.code(escape, 0x2F, 0x01, Bench.at(DATA), 0x01, Bench.at(TABLE), 0x01, Bench.at(TO))).run(2).fine().flags(4);
+        int[] move = Bench.code(0x28, 0x01, Bench.at(DATA), Bench.at(TO));
+        Trial t = Trial.of("a fault behind a string is none of a round", Bench.code(move, 0xD0, 0x87, Bench.at(END))).reg(7, DATA).run(2);
+        t.pushed(CHECK, CODE + move.length, 4, END).is(7, DATA).state(7, 1);
+        t = Trial.of("a fault of a round, then another", Bench.code(0x28, 0x05, Bench.at(END), Bench.at(TO))).run(1).fault(CHECK, FPD, END);
+        t.bytes(CODE, Bench.code(0xD0, 0x87, Bench.at(END))).reg(16, 0).reg(14, Trial.STACK).reg(7, DATA).again().run(1).pushed(CHECK, CODE, 0, END)
+            .is(7, DATA);
+    }
+
     private static int S(int address) {
         return Trial.S | address;
     }
@@ -244,6 +258,7 @@ public final class EdgesOfStrings {
         moves();
         comparisons();
         failing();
+        oneBehindTheOther();
         goesOn();
         Bench.end("edges of strings");
     }

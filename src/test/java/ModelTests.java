@@ -2273,8 +2273,21 @@ public final class ModelTests {
             bytes(address, out);
         }
 
+        /** A sign and so many characters, mostly fit. */
+        void charactersAt(int address, int count) {
+            if (address < 0 || address > PAGES * 512 - 33) {
+                return;
+            }
+            byte[] out = new byte[count + 1];
+            for (int i = 1; i < out.length; i++) {
+                out[i] = (byte) (random.nextInt(200) == 0 ? random.nextInt(256) : '0' + random.nextInt(10));
+            }
+            out[0] = (byte) (random.nextInt(20) == 0 ? random.nextInt(256) : "+- ".charAt(random.nextInt(3)));
+            bytes(address, out);
+        }
+
         /** Operands of strings and decimals: short counts and good addresses. */
-        void stringOperand(char how, char type, boolean decimal, int[] count) {
+        void stringOperand(char how, char type, boolean decimal, int[] count, int many) {
             if (how == 'r' && type == 'w') {
                 count[0] = decimal ? random.nextInt(25) == 0 ? random.nextInt(70) : random.nextInt(32)
                     : random.nextInt(10) == 0 ? random.nextInt(300) : random.nextInt(14);
@@ -2288,7 +2301,9 @@ public final class ModelTests {
                 emit(random.nextInt(4) == 0 ? random.nextInt(64) : random.nextInt(10));
             } else if (how == 'a') {
                 int target = pointer();
-                if (decimal) {
+                if (decimal && code[0] == 0x09 && many == 1) {
+                    charactersAt(target, Math.min(count[0], 31));
+                } else if (decimal) {
                     decimalAt(target, Math.min(count[0], 31));
                 }
                 if (random.nextInt(3) == 0) {
@@ -2370,7 +2385,7 @@ public final class ModelTests {
             for (String one : format.split(" ")) {
                 if (!one.isEmpty()) {
                     if ((string || decimal) && random.nextInt(12) > 0) {
-                        stringOperand(one.charAt(0), one.charAt(1), decimal, count);
+                        stringOperand(one.charAt(0), one.charAt(1), decimal, count, k);
                     } else if (opcode >= 0xDA && opcode <= 0xDB && one.equals("rl") && k == (opcode == 0xDA ? 1 : 0)) {
                         emit(0x8F);
                         emitLong(random.nextInt(64), 4);
