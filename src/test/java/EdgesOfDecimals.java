@@ -171,7 +171,11 @@ public final class EdgesOfDecimals {
     /** Several on one computer: nothing of an earlier one stays in a later one. */
     private static void oneBehindTheOther() {
         Bench.part("one behind the other");
-        int[] long31 = Bench.code(0x25, 0x1F, Bench.at(DATA), 0x1F, Bench.at(DATA), 0x1F, Bench.at(THIRD));
+        int[] long31 = Bench.code(0x21, 0x1F, Bench.at(DATA), 0x1F, Bench.at(DATA), 0x1F, Bench.at(THIRD));
+        Trial.of("ASHP to the left", Bench.code(long31, 0xF8, 0x02, 0x01, Bench.at(SECOND), 0x00, 0x03, Bench.at(TABLE))).bytes(DATA, packed(NINES, 31))
+            .bytes(SECOND, 0x1C).run(2).flags(0).holds(TABLE, 2, 0x0C10);
+        Trial.of("ASHP to the right", Bench.code(long31, 0xF8, Bench.b(-1), 0x01, Bench.at(SECOND), 0x00, 0x1F, Bench.at(TABLE))).bytes(DATA, packed(NINES, 31))
+            .bytes(SECOND, 0x1C).run(2).flags(4).holds(TABLE, 8, 0);
         int[] shifted = Bench.code(0xF8, Bench.b(127), 0x1F, Bench.at(DATA), 0x00, 0x1F, Bench.at(THIRD));
         int[][] later = {Bench.code(0x34, 0x01, Bench.at(SECOND), Bench.at(TABLE)), Bench.code(0xF9, 0x01, 0x1F, Bench.at(TABLE)),
             Bench.code(0x20, 0x01, Bench.at(SECOND), 0x1F, Bench.at(TABLE)), Bench.code(0x25, 0x01, Bench.at(SECOND), 0x01, Bench.at(SECOND), 0x1F, Bench.at(TABLE)),
@@ -329,6 +333,10 @@ public final class EdgesOfDecimals {
                 }
             }
         }
+        for (int v = 75; v <= 105; v++) {
+            shifted(big(v), -1, 5, 3);
+            shifted(big(-v), -1, 9, 1);
+        }
         for (int round : new int[] {10, 15, 16, 127, 128, 255}) {
             Trial.of("round " + round, 0xF8, Bench.b(-1), 0x01, Bench.at(DATA), Bench.b(round), 0x01, Bench.at(THIRD)).bytes(DATA, 0x1C).run(1)
                 .fault(RESERVED, 0);
@@ -385,6 +393,8 @@ public final class EdgesOfDecimals {
         }
         Trial.of("CVTSP of no digits reads the sign", 0x09, 0x00, Bench.at(DATA), 0x00, Bench.at(THIRD)).bytes(DATA, '*').run(1).fault(RESERVED, 0);
         Trial.of("CVTSP of no digits", 0x09, 0x00, Bench.at(DATA), 0x01, Bench.at(THIRD)).bytes(DATA, '-', '*').run(1).fine().holds(THIRD, 1, 0x0C);
+        Trial.of("CVTSP's string ahead of its second count", 0x09, 0x03, Bench.at(END - 3), 0x20, Bench.at(THIRD)).run(1).fault(CHECK, 0, END);
+        Trial.of("CVTPS's string ahead of its second count", 0x08, 0x03, Bench.at(END - 1), 0x20, Bench.at(THIRD)).run(1).fault(CHECK, 0, END);
         Trial.of("CVTSP at the end", 0x09, 0x03, Bench.at(END - 4), 0x03, Bench.at(THIRD)).bytes(END - 4, Bench.text("+123")).run(1).fine();
         Trial.of("CVTSP behind it", 0x09, 0x03, Bench.at(END - 3), 0x03, Bench.at(THIRD)).run(1).fault(CHECK, 0, END);
         Trial.of("CVTPS at the end", 0x08, 0x01, Bench.at(DATA), 0x03, Bench.at(END - 4)).bytes(DATA, 0x1C).run(1).fine();

@@ -85,6 +85,25 @@ public final class EdgesOfExceptions {
         two.is(14, S + INTERRUPTS - 16).holds(INTERRUPTS - 16, 4, 1).holds(INTERRUPTS - 12, 4, 0xC0000000L);
     }
 
+    /** Nothing but the frame is written, and all of it. */
+    private static void frames() {
+        Bench.part("frames");
+        Trial t = Trial.of("no parameter", 0x03).bytes(INTERRUPTS - 16, Bench.repeated(0xEE, 20)).run(1).fault(44, 0);
+        t.holds(INTERRUPTS - 9, 1, 0xEE).holds(INTERRUPTS - 16, 4, 0xEEEEEEEEL).holds(INTERRUPTS, 4, 0xEEEEEEEEL);
+        t = Trial.of("one parameter", 0x95, Bench.at(END)).bytes(INTERRUPTS - 16, Bench.repeated(0xEE, 20)).run(1).fault(4, 0, END);
+        t.holds(INTERRUPTS - 16, 4, 0xEEEEEEEEL).holds(INTERRUPTS, 4, 0xEEEEEEEEL);
+        t = Trial.mapped("two parameters", 0x95, Bench.at(-1)).bytes(INTERRUPTS - 20, Bench.repeated(0xEE, 24)).run(1).fault(32, 0, -1, 1);
+        t.holds(INTERRUPTS - 20, 4, 0xEEEEEEEEL).holds(INTERRUPTS, 4, 0xEEEEEEEEL);
+        t = Trial.of("CHM", 0xBC, 0x05).bytes(STACK - 16, Bench.repeated(0xEE, 20)).run(1).pushed(64, CODE + 2, 0, 5);
+        t.holds(STACK - 16, 4, 0xEEEEEEEEL).holds(STACK, 4, 0xEEEEEEEEL);
+        for (int level : new int[] {0, 1, 15, 16, 31}) {
+            Trial.of("IPL " + level + " stays on the kernel's stack", 0x03).vector(44, HANDLER).status(level << 16).run(1).fault(44, level << 16)
+                .is(16, level << 16);
+            Trial.of("IPL " + level + " stays with CHM", 0xBC, 0x05).status(level << 16).run(1).pushed(64, CODE + 2, level << 16, 5).is(16, level << 16);
+        }
+        t = Trial.of("a trap is one instruction's", 0xC6, 0x00, 0x51, 0x01, 0xC0, 0x01, 0x51).vector(52, CODE + 4).run(2).state(2, 1).state(7, 2).is(1, 1);
+    }
+
     private static void failures() {
         Bench.part("what fails in being taken");
         for (int bits = 0; bits < 4; bits++) {
@@ -215,6 +234,7 @@ public final class EdgesOfExceptions {
         offsets();
         reservedInstructions();
         stacks();
+        frames();
         failures();
         levels();
         tracing();

@@ -164,6 +164,7 @@ public final class EdgesOfFields {
             .holds(h, 8, (long) h << 32 | h);
         Trial.of("the operand's place is not there", 0x0F, Bench.at(a), Bench.at(END)).longs(h, a, a).longs(a, h, h).run(1)
             .fault(CHECK, 0, END).holds(h, 8, (long) a << 32 | a);
+        Trial.of("an entry at the end", 0x0F, Bench.at(END - 8), 0x52).longs(END - 8, h, h).run(1).fine().is(2, END - 8).holds(h, 8, links(h, h));
         Trial.of("half an entry at the end", 0x0F, Bench.at(END - 4), 0x52).run(1).fault(CHECK, 0, END);
         Trial none = Trial.mapped("none was there: nothing is written", 0x0F, Bench.at(8), 0x52).longs(16 * 512 + 8, 8, 8);
         none.longs(Trial.PROCESS_TABLE, 1 << 31 | 15 << 27 | 16).run(1).fine().flags(6).is(2, 8);
@@ -183,6 +184,10 @@ public final class EdgesOfFields {
         t.run(1).fine().flags(9).holds(DATA, 8, links(a, b)).holds(DATA + 0x20, 8, links(b, h)).holds(DATA + 0x40, 8, links(h, a));
         t.run(1).fine().flags(0).is(2, a).holds(DATA, 8, links(b, b)).holds(DATA + 0x40, 8, links(h, h)).holds(DATA + 0x48, 1, 0xEE);
         t.run(1).fine().flags(4).is(3, b).holds(DATA, 8, links(h, h)).holds(DATA + 8, 1, 0xEE).holds(DATA - 1, 1, 0xEE);
+        t = Trial.mapped("in S and P0", 0x0E, Bench.at(8), Bench.at(h), 0x0E, Bench.at(b), Bench.at(8), 0x0F, Bench.at(8), 0x52, 0x0F, Bench.at(b), 0x53);
+        t.longs(DATA, h, h).run(1).fine().holds(DATA, 8, links(8, 8)).holds(16 * 512 + 8, 8, links(h, h));
+        t.run(1).fine().holds(DATA, 8, links(8, b)).holds(16 * 512 + 8, 8, links(b, h)).holds(DATA + 0x40, 8, links(h, 8));
+        t.run(1).fine().is(2, 8).holds(DATA, 8, links(b, b)).holds(DATA + 0x40, 8, links(h, h)).run(1).fine().holds(DATA, 8, links(h, h));
         for (int opcode = 0x5C; opcode <= 0x5D; opcode++) {
             t = Trial.mapped("from P0 to S", opcode, Bench.at(8), Bench.at(h), opcode + 2, Bench.at(h), 0x52).longs(DATA, 0, 0).run(1).fine().flags(4);
             t.holds(DATA, 8, links(8 - h, 8 - h)).holds(16 * 512 + 8, 8, links(h - 8, h - 8)).holds(DATA + 8, 4, 0).holds(16 * 512 + 16, 4, 0);
@@ -202,7 +207,7 @@ public final class EdgesOfFields {
             for (int opcode : new int[] {0x5C, 0x5D}) {
                 Trial.of("an entry with low bits " + low, opcode, Bench.at(a + low), Bench.at(h)).run(1).fault(RESERVED, 0);
                 Trial.of("a header with low bits " + low, opcode, Bench.at(a), Bench.at(h + low)).run(1).fault(RESERVED, 0);
-                Trial.of("a link with low bits " + low, opcode, Bench.at(a), Bench.at(h)).longs(h, 8 + low, 8 + low).run(1)
+                Trial.of("a link with low bits " + low, opcode, Bench.at(a), Bench.at(h)).longs(h, 0x10 + low, 0x10 + low).run(1)
                     .fault(RESERVED, 0).holds(a, 8, 0);
             }
             for (int opcode : new int[] {0x5E, 0x5F}) {
@@ -215,6 +220,11 @@ public final class EdgesOfFields {
         for (int opcode : new int[] {0x5C, 0x5D}) {
             Trial.of("alone", opcode, Bench.at(a), Bench.at(h)).status(11).run(1).fine().flags(4).holds(h, 8, 0x2000000020L)
                 .holds(a, 8, 0xFFFFFFE0FFFFFFE0L);
+            Trial.of("a header at the end of memory", opcode, Bench.at(a), Bench.at(END - 8)).run(1).fine().flags(4).holds(a, 8, links(END - 8 - a, END - 8 - a));
+            Trial beyond = Trial.of("nothing beyond the links", opcode, Bench.at(a), Bench.at(h)).bytes(DATA - 1, Bench.repeated(0xEE, 0x40)).longs(h, 0, 0);
+            beyond.run(1).fine().holds(h - 1, 1, 0xEE).holds(h + 8, 1, 0xEE).holds(a - 1, 1, 0xEE).holds(a + 8, 1, 0xEE);
+            Trial order = Trial.mapped("the header is read, the entry written first", opcode, Bench.at(0xC0000000), Bench.at(8));
+            order.longs(Trial.PROCESS_TABLE, 1 << 31 | 15 << 27 | 16).run(1).fault(32, 0, 0xC0000000, 5);
             Trial.of("a place that is not there", opcode, Bench.at(END), Bench.at(h)).run(1).fault(CHECK, 0, END).holds(h, 8, 0);
             Trial.of("a header that is not there", opcode, Bench.at(a), Bench.at(END)).run(1).fault(CHECK, 0, opcode == 0x5C ? END : END + 4);
             Trial two = Trial.of("two", opcode, Bench.at(DATA + 0x40), Bench.at(h)).longs(h, 0x20, 0x20).longs(a, -0x20, -0x20).status(15);
@@ -230,6 +240,11 @@ public final class EdgesOfFields {
                 .flags(4).is(2, a).holds(h, 8, 0);
             Trial.of("the place is not there", opcode, Bench.at(h), Bench.at(END)).longs(h, 0x20, 0x20).longs(a, -0x20, -0x20).run(1)
                 .fault(CHECK, 0, END).holds(h, 8, 0x2000000020L);
+            Trial beyond = Trial.of("nothing beyond the links", opcode, Bench.at(h), 0x52).bytes(DATA - 1, Bench.repeated(0xEE, 0x40)).longs(h, 0x20, 0x20);
+            beyond.longs(a, -0x20, -0x20).run(1).fine().holds(h - 1, 1, 0xEE).holds(h + 8, 1, 0xEE).holds(a, 8, links(-0x20, -0x20));
+            Trial kept = Trial.mapped("what is taken out is only read", opcode, Bench.at(Trial.S | DATA), 0x52).longs(16 * 512 + 8, (Trial.S | DATA) - 8,
+                (Trial.S | DATA) - 8).longs(DATA, 8 - (Trial.S | DATA), 8 - (Trial.S | DATA));
+            kept.longs(Trial.PROCESS_TABLE, 1 << 31 | 15 << 27 | 16).run(1).fine().flags(4).is(2, 8).holds(DATA, 8, 0);
             Trial.of("empty at the end of memory", opcode, Bench.at(END - 8), 0x52).run(1).fine().flags(6);
             Trial.of("the only one at the end of memory", opcode, Bench.at(h), 0x52).longs(h, END - 8 - h, END - 8 - h)
                 .longs(END - 8, h - END + 8, h - END + 8).run(1).fine().flags(4).is(2, END - 8).holds(h, 8, 0);
@@ -267,16 +282,17 @@ public final class EdgesOfFields {
             .holds(STACK - 4, 8, 0xEEEEEEEE89ABCDEFL).is(12, STACK - 4);
         Trial page = Trial.mapped("the count's own page", 0xFB, 0x01, Bench.at(Trial.S + DATA)).reg(14, 516).run(1).fine();
         page.holds(Trial.PROCESS_TABLE, 8, 0xA4000011A4000010L).holds(17 * 512, 4, 1);
-        int[][] masks = {{0x0000, 0x00}, {0x4000, 0x20}, {0x8000, 0x80}, {0xC000, 0xA0}};
+        int[][] masks = {{0x0000, 0x00}, {0x0FFF, 0x00}, {0x0001, 0x00}, {0x4000, 0x20}, {0x8000, 0x80}, {0xC000, 0xA0}};
         for (int[] mask : masks) {
             Trial.of("IV and DV", 0xFA, Bench.at(0), Bench.at(DATA)).bytes(DATA, Bench.spread(mask[0], 2)).status(0xEF).run(1).fine()
-                .is(16, mask[1]).holds(STACK - 16, 4, 0xE0);
+                .is(16, mask[1]).holds(STACK - 16 - 4 * Integer.bitCount(mask[0] & 0xFFF), 4, 0xE0 | (mask[0] & 0xFFF) << 16);
         }
         Trial.of("the mask is not there", 0xFA, Bench.at(0), Bench.at(END - 1)).run(1).fault(CHECK, 0, END);
         Trial.of("the last mask of memory", 0xFA, Bench.at(0), Bench.at(END - 2)).run(1).fine().is(15, END);
         Trial.of("just enough stack", 0xFA, Bench.at(0), Bench.at(DATA)).reg(14, 20).run(1).fine().is(14, 0);
         Trial.of("not enough stack", 0xFA, Bench.at(0), Bench.at(DATA)).reg(14, 19).run(1).fault(CHECK, 0, -4).reads(0, 19);
         Trial.of("just enough stack for the count", 0xFB, 0x00, Bench.at(DATA)).reg(14, 24).run(1).fine().is(14, 0).is(12, 20);
+        Trial.of("the count is the last L of memory", 0xFB, 0x00, Bench.at(DATA)).reg(14, END).run(1).fine().is(12, END - 4);
         Trial.of("no stack for the count", 0xFB, 0x00, Bench.at(DATA)).reg(14, 3).run(1).fault(CHECK, 0, -1);
     }
 

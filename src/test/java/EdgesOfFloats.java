@@ -156,8 +156,9 @@ public final class EdgesOfFloats {
             boolean wide = width == 1;
             int o = wide ? 0x60 : 0x40;
             long one = bits(wide, 0, 129, 0);
-            long three = bits(wide, 0, 130, 1L << (wide ? 54 : 22));
-            long[] due = {bits(wide, 0, 131, 0), bits(wide, 0, 130, 0), three, three};
+            long top = 1L << (wide ? 54 : 22);
+            long three = bits(wide, 0, 130, top + 4);
+            long[] due = {bits(wide, 0, 131, 2), bits(wide, 0, 130, 4), three, three};
             for (int kind = 0; kind < 4; kind++) {
                 int[] code = Bench.code(o + 2 * kind, immediate(wide, one), Bench.at(DATA));
                 Trial.of("with two operands " + kind, code).bytes(DATA, Bench.spread(three, wide ? 8 : 4)).status(3).run(1).fine().flags(0)
@@ -213,6 +214,11 @@ public final class EdgesOfFloats {
             Trial.of("e 0 is 0, whatever the fraction", o + 1, immediate(wide, 0xFFFF007FL), immediate(wide, 0x4080), 0x51).run(1).fine().is(1, 0x4080);
             Trial.of("TST of that", o + 0x13, immediate(wide, 0xFFFF007FL)).status(11).run(1).fine().flags(4);
             Trial.of("by that", o + 7, immediate(wide, 0xFFFF007FL), immediate(wide, 0x4080), 0x51).run(1).fault(ARITHMETIC, 0, 9);
+            Trial.of("MNEG of e 0", o + 0x12, immediate(wide, 0xFFFF007FL), 0x51).status(3).run(1).fine().is(1, 0).flags(4);
+            for (long bits : new long[] {0x80, 0x3F00, 0x3F80, 0x4000, 0x7F80}) {
+                Trial.of("TST of " + bits, o + 0x13, immediate(wide, bits)).status(15).run(1).fine().flags(0);
+                Trial.of("TST of " + bits + " below 0", o + 0x13, immediate(wide, bits | 0x8000)).status(7).run(1).fine().flags(8);
+            }
             Trial.of("TST below 0", o + 0x13, immediate(wide, 0xC080)).status(7).run(1).fine().flags(8);
             Trial.of("MNEG of 0", o + 0x12, immediate(wide, 0), 0x51).reg(1, 9).status(3).run(1).fine().is(1, 0).flags(4);
             Trial.of("MNEG", o + 0x12, immediate(wide, 0x4080), 0x51).status(3).run(1).fine().is(1, 0xC080).flags(8);
@@ -228,7 +234,7 @@ public final class EdgesOfFloats {
             int bits = wide ? 55 : 23;
             for (int kind = 0; kind < 4; kind++) {
                 for (int sign = 0; sign < 2; sign++) {
-                    for (int e : new int[] {1, 65, 126, 127, 128, 129, 130, 135, 136, 137, 143, 144, 145, 151, 152, 153, 159, 160, 161, 162, 183,
+                    for (int e : new int[] {1, 65, 119, 120, 121, 126, 127, 128, 129, 130, 135, 136, 137, 143, 144, 145, 151, 152, 153, 159, 160, 161, 162, 183,
                         184, 185, 191, 192, 193, 215, 216, 217, 247, 248, 255}) {
                         for (long f : new long[] {0, 1, 1L << bits - 1, (1L << bits) - 1, (1L << bits - 1) - 1, 1L << bits - 8, 1L << bits - 16}) {
                             whole(wide, kind, sizes[kind], sign, e, f);

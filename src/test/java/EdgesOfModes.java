@@ -206,6 +206,11 @@ public final class EdgesOfModes {
         for (int n = 0; n < 14; n++) {
             row.holds(DATA + 0x110 + 4 * n, 4, 0x89000000L + n);
         }
+        Trial.of("the first bytes of memory", 0x07).special(16, 0).longs(DATA, 0x4321, 0x03C00000).reg(14, DATA).run(1).fine().holds(0, 4, DATA + 8)
+            .holds(72, 8, 0x03C0000000004321L);
+        Trial.of("the last pops", 0x07).special(16, DATA).longs(END - 8, 0x4321, 0x03C00000).reg(14, END - 8).run(1).fine().holds(DATA, 4, END);
+        Trial kernels = Trial.mapped("a stack of the kernel's", 0x07).special(16, DATA).longs(Trial.PROCESS_TABLE, 1 << 31 | 2 << 27 | 16).reg(14, 8);
+        kernels.longs(16 * 512 + 8, 0x4321, 0x03C00000).run(1).fine().holds(DATA + 72, 8, 0x03C0000000004321L);
         Trial.of("one byte is not there", 0x07).special(16, last + 1).run(1).fault(CHECK, 0, END).reads(0, STACK);
         Trial.of("none is", 0x07).special(16, END).run(1).fault(CHECK, 0, END);
         Trial.of("none is, far away", 0x07).special(16, -1).run(1).fault(CHECK, 0, -1);

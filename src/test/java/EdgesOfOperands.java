@@ -154,6 +154,8 @@ public final class EdgesOfOperands {
             int word = 128 + (bits >> 3) << 7 | (bits & 7) << 4;
             Trial.of("F literal " + bits, 0x50, bits, 0x51).reg(1, -1).run(1).fine().is(1, word);
             Trial.of("D literal " + bits, 0x70, bits, 0x51).reg(1, -1).reg(2, -1).run(1).fine().is(1, word).is(2, 0);
+            Trial.of("F literal of a sum", 0x41, bits, Bench.l(0), 0x51).run(1).fine().is(1, word);
+            Trial.of("D literal of a sum", 0x61, bits, Bench.q(0), 0x51).reg(2, -1).run(1).fine().is(1, word).is(2, 0);
             Trial.of("Q literal " + bits, 0x7D, bits, 0x51).reg(2, -1).run(1).fine().is(1, bits).is(2, 0);
             Trial.of("L literal " + bits, 0xD0, bits, 0x51).run(1).fine().is(1, bits).flags(bits == 0 ? 4 : 0);
         }
@@ -188,6 +190,7 @@ public final class EdgesOfOperands {
         deferred.run(1).fine().is(4, 0x89ABCDEF);
         Trial.of("the L that lies at the end", 0x9E, 0x91, 0x52).reg(1, END - 4).longs(END - 4, 7).run(1).fine().is(2, 7).is(1, END);
         Trial.of("the L that does not", 0x9E, 0x91, 0x52).reg(1, END - 3).run(1).fault(MACHINE_CHECK, 0, END).is(1, END - 3);
+        Trial.of("an address at a displacement, the last L", 0x9E, 0xB1, 1, 0x52).reg(1, END - 5).longs(END - 4, 7).run(1).fine().is(2, 7);
         Trial.of("an address at a displacement, not there", 0x9E, 0xB1, 1, 0x52).reg(1, END - 4).run(1).fault(MACHINE_CHECK, 0, END);
     }
 
@@ -223,6 +226,30 @@ public final class EdgesOfOperands {
         Trial.of("an address ahead of the push", 0x9F, 0x6E).run(1).fine().holds(STACK - 4, 4, STACK).is(14, STACK - 4);
     }
 
+    /** A pointer that can't be read: its own fault is told, whatever the operand ahead of it was. */
+    private static void pointers() {
+        Bench.part("pointers");
+        int[] readable = Bench.at(5);
+        int bad = 0xC0000000;
+        for (int[] pointer : new int[][] {{0x91}, {0xB1, 0}, {0xD1, 0, 0}, {0xF1, 0, 0, 0, 0}}) {
+            Trial t = Trial.mapped("a pointer " + pointer[0], 0xC0, readable, pointer).reg(1, bad);
+            t.longs(Trial.PROCESS_TABLE, 1 << 31 | 15 << 27 | 16).run(1).fault(32, 0, bad, 1).is(1, bad);
+        }
+        Trial t = Trial.mapped("a displacement that can't be read", 0x01).reg(15, 505).bytes(17 * 512 - 7, Bench.code(0xC0, readable, 0xA1));
+        t.longs(Trial.PROCESS_TABLE, 1 << 31 | 15 << 27 | 16, 0).run(1).pushed(32, 505, 0, 512, 0);
+    }
+
+    /** Results of an earlier instruction are not stored again. */
+    private static void oneBehindTheOther() {
+        Bench.part("one behind the other");
+        Trial.of("in registers", 0x7B, 0x05, Bench.q(17), 0x51, 0x52, 0xD0, 0x09, 0x52).run(2).fine().is(1, 3).is(2, 9);
+        Trial.of("in memory", 0x7B, 0x05, Bench.q(17), Bench.at(DATA), Bench.at(DATA + 4), 0xD0, 0x09, Bench.at(DATA + 4)).run(2).fine()
+            .holds(DATA, 8, 9L << 32 | 3);
+        Trial.of("in two pages, then in one", 0xD0, Bench.l(-1), Bench.at(DATA + 510), 0xE2, 0x00, Bench.at(DATA + 16), 0x00).run(2).fine()
+            .holds(DATA + 508, 8, 0x0000FFFFFFFF0000L).holds(DATA + 16, 4, 1);
+        Trial.of("pushes", 0xBB, 0x3F, 0xDD, 0x09).reg(0, 1).run(2).fine().holds(STACK - 28, 8, 1L << 32 | 9).is(14, STACK - 28);
+    }
+
     private static void undone() {
         Bench.part("what a fault undoes");
         Trial.of("registers, PC and STATUS", 0xC1, 0x81, 0x72, Bench.at(END)).reg(1, DATA).reg(2, DATA + 8).status(0x6F)
@@ -250,6 +277,8 @@ public final class EdgesOfOperands {
         literals();
         addresses();
         order();
+        pointers();
+        oneBehindTheOther();
         undone();
         Bench.end("edges of operands");
     }

@@ -132,7 +132,7 @@ public final class EdgesOfStrings {
             .is(0, 0).is(1, DATA + 2).is(2, 1).is(3, TO + 3);
         Trial.of("fill on the other side", 0x2D, 0x04, Bench.at(DATA), 0x20, 0x02, Bench.at(TO)).bytes(TO, 1, 2).bytes(DATA, 1, 2, 0x20, 0x20)
             .run(1).flags(4).is(0, 0).is(1, DATA + 4).is(3, TO + 2);
-        Trial.of("an odd fill", 0x2D, 0x00, Bench.at(DATA), 0x21, 0x01, Bench.at(TO)).bytes(TO, 0x20).run(1).flags(0).is(2, 1);
+        Trial.of("an odd fill", 0x2D, 0x00, Bench.at(DATA), 0x21, 0x01, Bench.at(TO)).bytes(TO, 0x20).reg(5, 9).run(1).flags(0).is(2, 1).is(4, 0).is(5, 0);
         Trial.of("what R4, R5 were", 0x29, Bench.w(100), Bench.at(DATA), Bench.at(TO)).reg(4, 77).reg(5, 88).run(1).is(16, FPD).is(4, 0).is(5, 88)
             .run(1).fine1().is(4, 0).is(5, 0).is(6, 0);
         Trial.of("LOCC at the first", 0x3A, 0x00, 0x05, Bench.at(DATA)).status(15).run(1).flags(0).is(0, 5).is(1, DATA);
@@ -208,6 +208,8 @@ public final class EdgesOfStrings {
         int[] escape = Bench.code(0x2F, 0x01, Bench.at(DATA), 0x00, Bench.at(TABLE), 0x01, Bench.at(TO));
         Trial.of("V of an escape", Bench.code(escape, 0x28, 0x01, Bench.at(DATA), Bench.at(TO))).run(1).flags(6).run(1).fine().flags(4);
         Trial.of("V of an escape, MOVTUC", Bench.code(escape, 0x2F, 0x01, Bench.at(DATA), 0x01, Bench.at(TABLE), 0x01, Bench.at(TO))).run(2).fine().flags(4);
+        Trial.of("one that ended, then a long one", 0x3A, 0x20, 0x01, Bench.at(DATA), 0x3A, 0x20, Bench.w(150), Bench.at(DATA)).run(1).state(7, 1).run(1)
+            .state(7, 1).is(15, CODE + 8).run(1).state(7, 2).state(2, 0);
         int[] move = Bench.code(0x28, 0x01, Bench.at(DATA), Bench.at(TO));
         Trial t = Trial.of("a fault behind a string is none of a round", Bench.code(move, 0xD0, 0x87, Bench.at(END))).reg(7, DATA).run(2);
         t.pushed(CHECK, CODE + move.length, 4, END).is(7, DATA).state(7, 1);
