@@ -205,6 +205,10 @@ public final class EdgesOfDecimals {
             .bytes(SECOND, 0x1C).run(2).flags(0).holds(TABLE, 4, '+' | '0' << 8 | '0' << 16 | (long) '1' << 24).is(5, 0);
         Trial.of("EDITPC behind a long one", Bench.code(long31, 0x38, 0x01, Bench.at(SECOND), Bench.at(SECOND + 1), Bench.at(TABLE)))
             .bytes(DATA, packed(NINES, 31)).bytes(SECOND, 0x0C, 0x91, 0).run(2).flags(4).holds(TABLE, 2, ' ');
+        for (int[] first : new int[][] {long31, shifted}) {
+            Trial.of("CVTTP of none behind a long one", Bench.code(first, 0x26, 0x00, Bench.at(END), Bench.at(END), 0x1F, Bench.at(TABLE)))
+                .bytes(DATA, packed(NINES, 31)).run(2).flags(4).holds(TABLE, 8, 0).holds(TABLE + 8, 8, 0x0C00000000000000L);
+        }
         Trial.of("CMPP4 writes nothing", Bench.code(long31, 0x37, 0x01, Bench.at(SECOND), 0x01, Bench.at(SECOND))).bytes(DATA, packed(NINES, 31))
             .bytes(SECOND, 0x1C).run(1).bytes(THIRD, 0xEE).run(1).state(7, 2).holds(THIRD, 1, 0xEE);
         Trial.of("CVTPL writes nothing", Bench.code(long31, 0x36, 0x01, Bench.at(SECOND), 0x57)).bytes(DATA, packed(NINES, 31))
