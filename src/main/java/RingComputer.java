@@ -363,7 +363,9 @@ public final class RingComputer {
             System.arraycopy(from.keptPlaces, 0, keptPlaces, 0, keptPlaces.length);
             System.arraycopy(from.typedBytes, 0, typedBytes, 0, typedBytes.length);
             System.arraycopy(from.counts, 0, counts, 0, counts.length);
-            System.arraycopy(from.requests, 0, requests, 0, requests.length);
+            for (int i = 0; i < requests.length; i++) {
+                requests[i] = from.requests[i];
+            }
             System.arraycopy(from.waits, 0, waits, 0, waits.length);
         }
 
